@@ -1,0 +1,1978 @@
+import java.util.Arrays;
+import java.util.NoSuchElementException;
+
+/** A maker of parsers of many kinds; the document that it keeps to is ../shared/DOC.md. */
+public final class GrammarwrightHall {
+    private static final int TOKENS = 5;
+    private static final int NAMES = 6;
+    private static final int SYMBOLS = 11;
+    private static final int RULES = 16;
+    private static final int WIDTH = 5;
+    private static final int DOTS = 6;
+    private static final int LONGEST_TEXT = 12;
+    private static final int ROWS = 13;
+    private static final int LONGEST_WORD = 5;
+    private static final int LEVELS = 10;
+    private static final int TREES_TOLD = 1000000;
+    private static final int STEPS = 400;
+    private static final int NONE = -1;
+
+    /** The number of the one more rule, by which the start stands alone. */
+    private static final int TOP = 16;
+
+    // Of a set of items, the first long holds the rules 0 to 8, the second one those from 9 on:
+    // so the six dots of a rule are always in one long, and a shift by one moves every dot on.
+    private static final int RULES_A_HALF = 9;
+    private static final int SLOTS_A_HALF = 54;
+    private static final int SLOTS = 108;
+
+    // In sets of tokens, bit 5 is the end; in the first tokens of a tail, it tells that the tail can be empty.
+    private static final int END = 5;
+    private static final int END_BIT = 32;
+    private static final int TOKEN_BITS = 31;
+    private static final int CELLS = 6;
+    private static final int ALL_CELLS = 63;
+
+    private static final int SHIFTS = 100;
+    private static final int ACCEPTS = 101;
+
+    private static final int STATES = 200;
+
+    /** The states of the kinds '0' and 's' are not limited by the document where names never end; this is far above. */
+    private static final int PLAIN_STATES = 20000;
+
+    /** More than any cost or length; four of it are still an int. */
+    private static final int TOO_MUCH = 100000000;
+
+    private final Grammar grammar;
+    private final Text text;
+    private final Looks looks;
+    private final Rows rows;
+    private final Rows otherRows;
+    private final Plain plain;
+    private final Exact exact;
+    private final Table[] tables;
+    private final Run run;
+    private final Run otherRun;
+    private final Forest forest;
+    private final Forest pruned;
+    private final Mender mender;
+    private final Lexicon lexicon;
+    private int tablesVersion;
+
+    public GrammarwrightHall() {
+        grammar = new Grammar();
+        text = new Text();
+        looks = new Looks(grammar);
+        rows = new Rows(grammar, text);
+        otherRows = new Rows(grammar, text);
+        plain = new Plain(grammar);
+        exact = new Exact(grammar, looks);
+        tables = new Table[4];
+        for (int kind = 0; kind < 4; kind++) {
+            tables[kind] = new Table(grammar);
+        }
+        run = new Run(grammar, text);
+        otherRun = new Run(grammar, text);
+        forest = new Forest(grammar, looks, text, false);
+        pruned = new Forest(grammar, looks, text, true);
+        mender = new Mender(grammar, looks, text);
+        lexicon = new Lexicon(grammar, looks);
+        tablesVersion = NONE;
+    }
+
+    // ---- the grammar ----
+
+    public int rule(char left) throws IllegalArgumentException, IllegalStateException {
+        int name = checkedName(left);
+        if (grammar.count >= RULES) {
+            throw new IllegalStateException("there are 16 rules");
+        }
+        rows.keepNone();
+        return grammar.addRule(name);
+    }
+
+    public int symbol(int rule, char symbol)
+            throws IndexOutOfBoundsException, IllegalArgumentException, IllegalStateException {
+        checkRule(rule);
+        int part = symbolOf(symbol);
+        if (part == NONE) {
+            throw new IllegalArgumentException("there is no such symbol");
+        }
+        if (grammar.width[rule] >= WIDTH) {
+            throw new IllegalStateException("the rule has 5 symbols");
+        }
+        rows.keepNone();
+        return grammar.addPart(rule, part);
+    }
+
+    public int level(int rule, int level, char side) throws IndexOutOfBoundsException, IllegalArgumentException {
+        checkRule(rule);
+        if (level < 0 || level >= LEVELS) {
+            throw new IllegalArgumentException("there is no such level");
+        }
+        if (side != 'l' && side != 'r' && side != 'n') {
+            throw new IllegalArgumentException("there is no such side");
+        }
+        return grammar.setLevel(rule, level, side);
+    }
+
+    public char start(char name) throws IllegalArgumentException {
+        int code = checkedName(name);
+        rows.keepNone();
+        return (char) ('A' + grammar.setStart(code));
+    }
+
+    public int rules() {
+        return grammar.count;
+    }
+
+    public int length(int rule) throws IndexOutOfBoundsException {
+        checkRule(rule);
+        return grammar.width[rule];
+    }
+
+    public char symbolAt(int rule, int place) throws IndexOutOfBoundsException {
+        checkRule(rule);
+        int part = grammar.partAt(rule, place);
+        if (part == NONE) {
+            throw new IndexOutOfBoundsException("there is no such place");
+        }
+        return part < TOKENS ? (char) ('a' + part) : (char) ('A' + part - TOKENS);
+    }
+
+    public double meanLength() throws ArithmeticException {
+        if (grammar.count == 0) {
+            throw new ArithmeticException("there are no rules");
+        }
+        int sum = 0;
+        for (int rule = 0; rule < grammar.count; rule++) {
+            sum += grammar.width[rule];
+        }
+        return (double) sum / (double) grammar.count;
+    }
+
+    // ---- looks ----
+
+    public boolean canBeEmpty(char name) throws IllegalArgumentException {
+        int code = checkedName(name);
+        looks.refresh();
+        return has(looks.emptyNames, code);
+    }
+
+    public int first(char name) throws IllegalArgumentException {
+        int code = checkedName(name);
+        looks.refresh();
+        return looks.firsts[code];
+    }
+
+    public int behind(char name) throws IllegalArgumentException {
+        int code = checkedName(name);
+        looks.refresh();
+        return looks.behinds[code];
+    }
+
+    public boolean isReached(char name) throws IllegalArgumentException {
+        int code = checkedName(name);
+        looks.refresh();
+        return has(looks.reachedNames, code);
+    }
+
+    public int shortest(char name) throws IllegalArgumentException, NoSuchElementException {
+        int code = checkedName(name);
+        looks.refresh();
+        if (!has(looks.endingNames, code)) {
+            throw new NoSuchElementException("the name does not end");
+        }
+        return looks.lengths[code];
+    }
+
+    public boolean isLeftRecursive(char name) throws IllegalArgumentException {
+        int code = checkedName(name);
+        looks.refresh();
+        return has(looks.leftward[code], code);
+    }
+
+    public boolean goesRound(char name) throws IllegalArgumentException {
+        int code = checkedName(name);
+        looks.refresh();
+        return has(looks.around[code], code);
+    }
+
+    // ---- tables ----
+
+    public int states(char kind) throws IllegalArgumentException, UnsupportedOperationException {
+        return checkedTable(checkedKind(kind)).size;
+    }
+
+    public int items(char kind, int state)
+            throws IllegalArgumentException, UnsupportedOperationException, IndexOutOfBoundsException {
+        Table table = checkedTable(checkedKind(kind));
+        checkState(table, state);
+        return table.counts[state];
+    }
+
+    public int leadsTo(char kind, int state, char symbol) throws IllegalArgumentException,
+            UnsupportedOperationException, IndexOutOfBoundsException, NoSuchElementException {
+        int row = checkedKind(kind);
+        int part = symbolOf(symbol);
+        if (part == NONE) {
+            throw new IllegalArgumentException("there is no such symbol");
+        }
+        Table table = checkedTable(row);
+        checkState(table, state);
+        int next = table.leads[state * SYMBOLS + part];
+        if (next == NONE) {
+            throw new NoSuchElementException("the state leads nowhere by this symbol");
+        }
+        return next;
+    }
+
+    public int does(char kind, int state, char token)
+            throws IllegalArgumentException, UnsupportedOperationException, IndexOutOfBoundsException {
+        int row = checkedKind(kind);
+        int cell = token == '$' ? END : tokenOf(token);
+        if (cell == NONE) {
+            throw new IllegalArgumentException("there is no such token");
+        }
+        Table table = checkedTable(row);
+        checkState(table, state);
+        return table.acts[state * CELLS + cell];
+    }
+
+    public int doubts(char kind) throws IllegalArgumentException, UnsupportedOperationException {
+        return checkedTable(checkedKind(kind)).doubtCount;
+    }
+
+    public int doubtAt(char kind, int index)
+            throws IllegalArgumentException, UnsupportedOperationException, IndexOutOfBoundsException {
+        Table table = checkedTable(checkedKind(kind));
+        if (index < 0 || index >= table.doubtCount) {
+            throw new IndexOutOfBoundsException("there is no such cell");
+        }
+        return table.doubtful[index];
+    }
+
+    // ---- the text ----
+
+    public int type(char token) throws IllegalArgumentException, IllegalStateException {
+        int code = checkedToken(token);
+        checkRoom();
+        rows.keepTo(text.size);
+        return text.insert(text.size, code);
+    }
+
+    public int put(int place, char token)
+            throws IndexOutOfBoundsException, IllegalArgumentException, IllegalStateException {
+        if (place < 0 || place > text.size) {
+            throw new IndexOutOfBoundsException("there is no such place");
+        }
+        int code = checkedToken(token);
+        checkRoom();
+        rows.keepTo(place);
+        return text.insert(place, code);
+    }
+
+    public char cut(int place) throws IndexOutOfBoundsException {
+        if (place < 0 || place >= text.size) {
+            throw new IndexOutOfBoundsException("there is no such place");
+        }
+        rows.keepTo(place);
+        return (char) ('a' + text.remove(place));
+    }
+
+    public int erase() {
+        rows.keepTo(0);
+        return text.clear();
+    }
+
+    // ---- parsing by tables ----
+
+    public char parse(char kind) throws IllegalArgumentException, UnsupportedOperationException {
+        return run.follow(checkedTable(checkedKind(kind)));
+    }
+
+    public int steps() {
+        return run.stepCount;
+    }
+
+    public int reducedBy(int index) throws IndexOutOfBoundsException {
+        if (index < 0 || index >= run.usedCount) {
+            throw new IndexOutOfBoundsException("there is no such reduction");
+        }
+        return run.used[index];
+    }
+
+    // ---- parsing by rows ----
+
+    public boolean isWord() {
+        return rows.acceptText();
+    }
+
+    public int itemsIn(int row) throws IndexOutOfBoundsException {
+        if (row < 0 || row > text.size) {
+            throw new IndexOutOfBoundsException("there is no such row");
+        }
+        return rows.countItems(row);
+    }
+
+    public int kept() {
+        return rows.made;
+    }
+
+    public int reckoned() {
+        return rows.everMade;
+    }
+
+    // ---- trees ----
+
+    public int trees() throws UnsupportedOperationException {
+        checkNoneGoesRound();
+        return forest.countTrees();
+    }
+
+    public int treesLeft() throws UnsupportedOperationException {
+        checkNoneGoesRound();
+        return pruned.countTrees();
+    }
+
+    public int treeRule(int index) throws UnsupportedOperationException, NoSuchElementException {
+        checkNode(index);
+        return pruned.foundRule;
+    }
+
+    public int treeSpan(int index) throws UnsupportedOperationException, NoSuchElementException {
+        checkNode(index);
+        return 100 * pruned.foundBegin + pruned.foundEnd;
+    }
+
+    // ---- repair and words ----
+
+    public int repair() throws NoSuchElementException {
+        looks.refresh();
+        if (!has(looks.endingNames, grammar.start)) {
+            throw new NoSuchElementException("the language has no word");
+        }
+        return mender.countCost();
+    }
+
+    public int words(int length) throws IllegalArgumentException {
+        if (length < 0 || length > LONGEST_WORD) {
+            throw new IllegalArgumentException("the length is out of range");
+        }
+        return lexicon.countUpTo(length);
+    }
+
+    public char wordAt(int index, int place) throws IndexOutOfBoundsException {
+        int token = lexicon.tokenOfWord(index, place);
+        if (token == NONE) {
+            throw new IndexOutOfBoundsException("there is no such word or place");
+        }
+        return (char) ('a' + token);
+    }
+
+    public long allTokens() {
+        return lexicon.sumOfLengths();
+    }
+
+    public float wordShare() {
+        return (float) lexicon.countUpTo(LONGEST_WORD) / (float) 3906;
+    }
+
+    // ---- soundness ----
+
+    public boolean isSound() {
+        otherRows.keepNone();
+        boolean word = otherRows.acceptText();
+        looks.refresh();
+        return isRepairSound(word) && areTreesSound(word) && areWordsSound(word) && areTablesSound(word);
+    }
+
+    private boolean isRepairSound(boolean word) {
+        boolean free = has(looks.endingNames, grammar.start) && mender.countCost() == 0;
+        return free == word;
+    }
+
+    private boolean areTreesSound(boolean word) {
+        return looks.liveOneGoesRound() || (forest.countTrees() > 0) == word;
+    }
+
+    private boolean areWordsSound(boolean word) {
+        return text.size > LONGEST_WORD || lexicon.holds(text) == word;
+    }
+
+    private boolean areTablesSound(boolean word) {
+        refreshTables();
+        if (exact.tooMany || plain.tooMany) {
+            return true;
+        }
+        for (int kind = 0; kind < 4; kind++) {
+            Table table = tables[kind];
+            if (table.doubtCount == 0 && (otherRun.follow(table) == 'y') != word) {
+                return false;
+            }
+        }
+        return true;
+    }
+
+    // ---- what several of them use ----
+
+    private static boolean has(int set, int member) {
+        return (set >> member & 1) != 0;
+    }
+
+    private static int nameOf(char sign) {
+        return sign >= 'A' && sign < 'A' + NAMES ? sign - 'A' : NONE;
+    }
+
+    private static int tokenOf(char sign) {
+        return sign >= 'a' && sign < 'a' + TOKENS ? sign - 'a' : NONE;
+    }
+
+    private static int symbolOf(char sign) {
+        int name = nameOf(sign);
+        return name == NONE ? tokenOf(sign) : TOKENS + name;
+    }
+
+    private static int checkedName(char sign) {
+        int name = nameOf(sign);
+        if (name == NONE) {
+            throw new IllegalArgumentException("there is no such name");
+        }
+        return name;
+    }
+
+    private static int checkedToken(char sign) {
+        int token = tokenOf(sign);
+        if (token == NONE) {
+            throw new IllegalArgumentException("there is no such token");
+        }
+        return token;
+    }
+
+    private static int checkedKind(char kind) {
+        int number = kind == '0' ? 0 : kind == 's' ? 1 : kind == 'l' ? 2 : kind == '1' ? 3 : NONE;
+        if (number == NONE) {
+            throw new IllegalArgumentException("there is no such kind");
+        }
+        return number;
+    }
+
+    private static void checkState(Table table, int state) {
+        if (state < 0 || state >= table.size) {
+            throw new IndexOutOfBoundsException("there is no such state");
+        }
+    }
+
+    private void checkRule(int rule) {
+        if (rule < 0 || rule >= grammar.count) {
+            throw new IndexOutOfBoundsException("there is no such rule");
+        }
+    }
+
+    private void checkRoom() {
+        if (text.size >= LONGEST_TEXT) {
+            throw new IllegalStateException("the text has 12 tokens");
+        }
+    }
+
+    private void checkNoneGoesRound() {
+        looks.refresh();
+        if (looks.liveOneGoesRound()) {
+            throw new UnsupportedOperationException("a name goes round that is reached and ends");
+        }
+    }
+
+    private void checkNode(int index) {
+        checkNoneGoesRound();
+        if (!pruned.findNode(index)) {
+            throw new NoSuchElementException("there is no such tree or index");
+        }
+    }
+
+    private Table checkedTable(int kind) {
+        refreshTables();
+        if (exact.tooMany || plain.tooMany) {
+            throw new UnsupportedOperationException("there would be too many states");
+        }
+        return tables[kind];
+    }
+
+    private void refreshTables() {
+        if (tablesVersion == grammar.version) {
+            return;
+        }
+        tablesVersion = grammar.version;
+        looks.refresh();
+        exact.build();
+        if (exact.tooMany) {
+            return;
+        }
+        plain.build();
+        if (plain.tooMany) {
+            return;
+        }
+        tables[0].fillPlain(plain, null);
+        tables[1].fillPlain(plain, looks.behinds);
+        tables[2].fillExact(exact, true);
+        tables[3].fillExact(exact, false);
+    }
+
+    private static int halfOf(int rule) {
+        return rule < RULES_A_HALF ? 0 : 1;
+    }
+
+    private static long bitOf(int rule, int dot) {
+        return 1L << ((rule < RULES_A_HALF ? rule : rule - RULES_A_HALF) * DOTS + dot);
+    }
+
+    /** The number of the lowest bit of a set that has one. */
+    private static int lowestOf(long set) {
+        return Long.bitCount((set & -set) - 1);
+    }
+
+    /** The rules. For each symbol the items ahead of it, for each name its items at the end and at first are kept. */
+    private static final class Grammar {
+        final int[] left = new int[RULES + 1];
+        final int[] right = new int[(RULES + 1) * WIDTH];
+        final int[] width = new int[RULES + 1];
+        final int[] levels = new int[RULES];
+        final char[] sides = new char[RULES];
+        final long[] ahead = new long[SYMBOLS * 2];
+        final long[] ended = new long[NAMES * 2];
+        final long[] fresh = new long[NAMES * 2];
+        int count;
+        int start;
+        int version;
+        int levelVersion;
+
+        Grammar() {
+            left[TOP] = NONE;
+            width[TOP] = 1;
+            right[TOP * WIDTH] = TOKENS;
+            ahead[TOKENS * 2 + 1] = bitOf(TOP, 0);
+        }
+
+        int addRule(int name) {
+            int rule = count;
+            int place = name * 2 + halfOf(rule);
+            left[rule] = name;
+            width[rule] = 0;
+            sides[rule] = 'n';
+            fresh[place] |= bitOf(rule, 0);
+            ended[place] |= bitOf(rule, 0);
+            count++;
+            version++;
+            return rule;
+        }
+
+        int addPart(int rule, int part) {
+            int half = halfOf(rule);
+            int place = width[rule];
+            right[rule * WIDTH + place] = part;
+            width[rule] = place + 1;
+            ahead[part * 2 + half] |= bitOf(rule, place);
+            ended[left[rule] * 2 + half] ^= bitOf(rule, place) | bitOf(rule, place + 1);
+            version++;
+            return place + 1;
+        }
+
+        int setLevel(int rule, int level, char side) {
+            int before = levels[rule];
+            levels[rule] = level;
+            sides[rule] = side;
+            levelVersion++;
+            return before;
+        }
+
+        int setStart(int name) {
+            int before = start;
+            ahead[(TOKENS + before) * 2 + 1] &= ~bitOf(TOP, 0);
+            ahead[(TOKENS + name) * 2 + 1] |= bitOf(TOP, 0);
+            right[TOP * WIDTH] = TOKENS + name;
+            start = name;
+            version++;
+            return before;
+        }
+
+        /** The symbol at a place of a rule, the one more rule too; NONE behind its last one. */
+        int partAt(int rule, int place) {
+            return place >= 0 && place < width[rule] ? right[rule * WIDTH + place] : NONE;
+        }
+    }
+
+    /** The row of tokens that is parsed. */
+    private static final class Text {
+        final int[] tokens = new int[LONGEST_TEXT];
+        int size;
+        int version;
+
+        int insert(int place, int token) {
+            for (int i = size; i > place; i--) {
+                tokens[i] = tokens[i - 1];
+            }
+            tokens[place] = token;
+            size++;
+            version++;
+            return size;
+        }
+
+        int remove(int place) {
+            int token = tokens[place];
+            for (int i = place + 1; i < size; i++) {
+                tokens[i - 1] = tokens[i];
+            }
+            size--;
+            version++;
+            return token;
+        }
+
+        int clear() {
+            int before = size;
+            size = 0;
+            version++;
+            return before;
+        }
+    }
+
+    /** What can be seen of the names without a text. Sets of names and of tokens are bits of an int. */
+    private static final class Looks {
+        private final Grammar grammar;
+        private int version = NONE;
+        int emptyNames;
+        int reachedNames;
+        int endingNames;
+        final int[] firsts = new int[NAMES];
+        final int[] behinds = new int[NAMES];
+        final int[] lengths = new int[NAMES];
+        /** For each name those that it can begin with, ahead of which all can be empty, after one step or more. */
+        final int[] leftward = new int[NAMES];
+        /** For each name those beside which all can be empty, after one step or more. */
+        final int[] around = new int[NAMES];
+        /** For each rule and place, what the symbols from there on can begin with. */
+        final int[] tails = new int[(RULES + 1) * DOTS];
+
+        Looks(Grammar grammar) {
+            this.grammar = grammar;
+        }
+
+        void refresh() {
+            if (version == grammar.version) {
+                return;
+            }
+            version = grammar.version;
+            findEmptyNames();
+            findFirsts();
+            findTails();
+            findBehinds();
+            findReachedNames();
+            findLengths();
+            findWays();
+        }
+
+        boolean canVanish(int part) {
+            return part >= TOKENS && has(emptyNames, part - TOKENS);
+        }
+
+        boolean ends(int part) {
+            return part < TOKENS || has(endingNames, part - TOKENS);
+        }
+
+        boolean liveOneGoesRound() {
+            for (int name = 0; name < NAMES; name++) {
+                if (has(around[name] & reachedNames & endingNames, name)) {
+                    return true;
+                }
+            }
+            return false;
+        }
+
+        /** How many symbols from the first one on can be empty. */
+        int vanishingParts(int rule) {
+            int place = 0;
+            while (place < grammar.width[rule] && canVanish(grammar.partAt(rule, place))) {
+                place++;
+            }
+            return place;
+        }
+
+        private void findEmptyNames() {
+            emptyNames = 0;
+            for (int round = 0; round < NAMES; round++) {
+                for (int rule = 0; rule < grammar.count; rule++) {
+                    if (vanishingParts(rule) == grammar.width[rule]) {
+                        emptyNames |= 1 << grammar.left[rule];
+                    }
+                }
+            }
+        }
+
+        private void findFirsts() {
+            Arrays.fill(firsts, 0);
+            boolean grown = true;
+            for (int round = 0; grown && round < NAMES * TOKENS + 1; round++) {
+                grown = false;
+                for (int rule = 0; rule < grammar.count; rule++) {
+                    int name = grammar.left[rule];
+                    int more = firsts[name] | tailFrom(rule, 0) & TOKEN_BITS;
+                    grown |= more != firsts[name];
+                    firsts[name] = more;
+                }
+            }
+        }
+
+        private int tailFrom(int rule, int place) {
+            int tokens = 0;
+            for (int i = place; i < grammar.width[rule]; i++) {
+                int part = grammar.partAt(rule, i);
+                tokens |= part < TOKENS ? 1 << part : firsts[part - TOKENS];
+                if (!canVanish(part)) {
+                    return tokens;
+                }
+            }
+            return tokens | END_BIT;
+        }
+
+        private void findTails() {
+            for (int rule = 0; rule < grammar.count; rule++) {
+                for (int place = 0; place <= grammar.width[rule]; place++) {
+                    tails[rule * DOTS + place] = tailFrom(rule, place);
+                }
+            }
+            tails[TOP * DOTS] = tailFrom(TOP, 0);
+            tails[TOP * DOTS + 1] = END_BIT;
+        }
+
+        private void findBehinds() {
+            Arrays.fill(behinds, 0);
+            behinds[grammar.start] = END_BIT;
+            boolean grown = true;
+            for (int round = 0; grown && round < NAMES * CELLS + 1; round++) {
+                grown = false;
+                for (int rule = 0; rule < grammar.count; rule++) {
+                    grown |= passBehind(rule);
+                }
+            }
+        }
+
+        private boolean passBehind(int rule) {
+            boolean grown = false;
+            for (int place = 0; place < grammar.width[rule]; place++) {
+                int part = grammar.partAt(rule, place);
+                if (part >= TOKENS) {
+                    int tail = tails[rule * DOTS + place + 1];
+                    int name = part - TOKENS;
+                    int more = behinds[name] | behindTail(tail, behinds[grammar.left[rule]]);
+                    grown |= more != behinds[name];
+                    behinds[name] = more;
+                }
+            }
+            return grown;
+        }
+
+        /** What is first in a tail, then in what is behind it. */
+        int behindTail(int tail, int behind) {
+            return (tail & END_BIT) == 0 ? tail : tail & TOKEN_BITS | behind;
+        }
+
+        private void findReachedNames() {
+            reachedNames = 1 << grammar.start;
+            for (int round = 0; round < NAMES; round++) {
+                for (int rule = 0; rule < grammar.count; rule++) {
+                    if (has(reachedNames, grammar.left[rule])) {
+                        reachedNames |= namesIn(rule);
+                    }
+                }
+            }
+        }
+
+        private int namesIn(int rule) {
+            int names = 0;
+            for (int place = 0; place < grammar.width[rule]; place++) {
+                int part = grammar.partAt(rule, place);
+                if (part >= TOKENS) {
+                    names |= 1 << part - TOKENS;
+                }
+            }
+            return names;
+        }
+
+        private void findLengths() {
+            Arrays.fill(lengths, TOO_MUCH);
+            // a shortest word has a tree in which no name stands above itself, so six rounds find all
+            for (int round = 0; round < NAMES; round++) {
+                for (int rule = 0; rule < grammar.count; rule++) {
+                    int name = grammar.left[rule];
+                    lengths[name] = Math.min(lengths[name], lengthBy(rule));
+                }
+            }
+            endingNames = 0;
+            for (int name = 0; name < NAMES; name++) {
+                if (lengths[name] < TOO_MUCH) {
+                    endingNames |= 1 << name;
+                }
+            }
+        }
+
+        private int lengthBy(int rule) {
+            int sum = 0;
+            for (int place = 0; place < grammar.width[rule]; place++) {
+                int part = grammar.partAt(rule, place);
+                sum = Math.min(TOO_MUCH, sum + (part < TOKENS ? 1 : lengths[part - TOKENS]));
+            }
+            return sum;
+        }
+
+        private void findWays() {
+            Arrays.fill(leftward, 0);
+            Arrays.fill(around, 0);
+            for (int rule = 0; rule < grammar.count; rule++) {
+                int name = grammar.left[rule];
+                int ahead = vanishingParts(rule);
+                for (int place = 0; place <= ahead && place < grammar.width[rule]; place++) {
+                    int part = grammar.partAt(rule, place);
+                    if (part >= TOKENS) {
+                        leftward[name] |= 1 << part - TOKENS;
+                        if ((tails[rule * DOTS + place + 1] & END_BIT) != 0) {
+                            around[name] |= 1 << part - TOKENS;
+                        }
+                    }
+                }
+            }
+            prolong(leftward);
+            prolong(around);
+        }
+
+        private static void prolong(int[] ways) {
+            for (int by = 0; by < NAMES; by++) {
+                for (int from = 0; from < NAMES; from++) {
+                    if (has(ways[from], by)) {
+                        ways[from] |= ways[by];
+                    }
+                }
+            }
+        }
+    }
+
+    /** The rows of items of the text: for each row and each row at which items began, a set of items. */
+    private static final class Rows {
+        private final Grammar grammar;
+        private final Text text;
+        private final long[] sets = new long[ROWS * ROWS * 2];
+        int made;
+        int everMade;
+
+        Rows(Grammar grammar, Text text) {
+            this.grammar = grammar;
+            this.text = text;
+        }
+
+        void keepNone() {
+            made = 0;
+        }
+
+        void keepTo(int place) {
+            made = Math.min(made, place + 1);
+        }
+
+        boolean acceptText() {
+            makeTo(text.size);
+            return (sets[placeOf(text.size, 0) + 1] & bitOf(TOP, 1)) != 0;
+        }
+
+        int countItems(int row) {
+            makeTo(row);
+            int sum = 0;
+            for (int begun = 0; begun <= row; begun++) {
+                int place = placeOf(row, begun);
+                sum += Long.bitCount(sets[place]) + Long.bitCount(sets[place + 1]);
+            }
+            return sum;
+        }
+
+        private static int placeOf(int row, int begun) {
+            return (row * ROWS + begun) * 2;
+        }
+
+        private void makeTo(int row) {
+            for (int next = made; next <= row && next < ROWS; next++) {
+                begin(next);
+                boolean grown = true;
+                // each round adds an item, or is the last one
+                for (int round = 0; grown && round < ROWS * SLOTS; round++) {
+                    grown = expect(next);
+                    grown |= finish(next);
+                }
+                made = next + 1;
+                everMade++;
+            }
+        }
+
+        private void begin(int row) {
+            for (int begun = 0; begun <= row; begun++) {
+                sets[placeOf(row, begun)] = 0;
+                sets[placeOf(row, begun) + 1] = 0;
+            }
+            if (row == 0) {
+                sets[1] = bitOf(TOP, 0);
+                return;
+            }
+            int token = text.tokens[row - 1];
+            for (int begun = 0; begun < row; begun++) {
+                moveOn(row, row - 1, begun, token);
+            }
+        }
+
+        /** Adds the items that had the dot ahead of a part in a row, with the dot moved on. */
+        private boolean moveOn(int row, int from, int begun, int part) {
+            boolean grown = false;
+            for (int half = 0; half < 2; half++) {
+                long moved = (sets[placeOf(from, begun) + half] & grammar.ahead[part * 2 + half]) << 1;
+                int place = placeOf(row, begun) + half;
+                if ((moved & ~sets[place]) != 0) {
+                    sets[place] |= moved;
+                    grown = true;
+                }
+            }
+            return grown;
+        }
+
+        private boolean expect(int row) {
+            boolean grown = false;
+            int own = placeOf(row, row);
+            for (int name = 0; name < NAMES; name++) {
+                long low = grammar.fresh[name * 2] & ~sets[own];
+                long high = grammar.fresh[name * 2 + 1] & ~sets[own + 1];
+                if ((low | high) != 0 && isExpected(row, name)) {
+                    sets[own] |= low;
+                    sets[own + 1] |= high;
+                    grown = true;
+                }
+            }
+            return grown;
+        }
+
+        private boolean isExpected(int row, int name) {
+            long low = grammar.ahead[(TOKENS + name) * 2];
+            long high = grammar.ahead[(TOKENS + name) * 2 + 1];
+            for (int begun = 0; begun <= row; begun++) {
+                int place = placeOf(row, begun);
+                if ((sets[place] & low) != 0 || (sets[place + 1] & high) != 0) {
+                    return true;
+                }
+            }
+            return false;
+        }
+
+        private boolean finish(int row) {
+            boolean grown = false;
+            for (int begun = row; begun >= 0; begun--) {
+                int place = placeOf(row, begun);
+                for (int name = 0; name < NAMES; name++) {
+                    if ((sets[place] & grammar.ended[name * 2]) != 0
+                            || (sets[place + 1] & grammar.ended[name * 2 + 1]) != 0) {
+                        for (int older = 0; older <= begun; older++) {
+                            grown |= moveOn(row, begun, older, TOKENS + name);
+                        }
+                    }
+                }
+            }
+            return grown;
+        }
+    }
+
+    /** The states of the kinds '0' and 's': each is a set of items in two longs. */
+    private static final class Plain {
+        private final Grammar grammar;
+        private long[] sets = new long[(STATES + 1) * 2];
+        int[] leads = new int[(STATES + 1) * SYMBOLS];
+        int size;
+        boolean tooMany;
+
+        Plain(Grammar grammar) {
+            this.grammar = grammar;
+        }
+
+        void build() {
+            tooMany = false;
+            size = 1;
+            sets[0] = 0;
+            sets[1] = bitOf(TOP, 0);
+            close(0);
+            for (int state = 0; state < size && state < PLAIN_STATES; state++) {
+                for (int part = 0; part < SYMBOLS && !tooMany; part++) {
+                    leads[state * SYMBOLS + part] = findNext(state, part);
+                }
+            }
+        }
+
+        boolean holds(int state, int rule, int dot) {
+            return (sets[state * 2 + halfOf(rule)] & bitOf(rule, dot)) != 0;
+        }
+
+        int countItems(int state) {
+            return Long.bitCount(sets[state * 2]) + Long.bitCount(sets[state * 2 + 1]);
+        }
+
+        private int findNext(int state, int part) {
+            long low = (sets[state * 2] & grammar.ahead[part * 2]) << 1;
+            long high = (sets[state * 2 + 1] & grammar.ahead[part * 2 + 1]) << 1;
+            if ((low | high) == 0) {
+                return NONE;
+            }
+            int next = size;
+            sets[next * 2] = low;
+            sets[next * 2 + 1] = high;
+            close(next);
+            for (int old = 0; old < next; old++) {
+                if (sets[old * 2] == sets[next * 2] && sets[old * 2 + 1] == sets[next * 2 + 1]) {
+                    return old;
+                }
+            }
+            if (size >= PLAIN_STATES) {
+                tooMany = true;
+                return NONE;
+            }
+            size++;
+            makeRoom();
+            return next;
+        }
+
+        /** One state more than there are has its place, for the one that is looked at. */
+        private void makeRoom() {
+            if ((size + 1) * 2 > sets.length) {
+                sets = Arrays.copyOf(sets, (size + 1) * 4);
+                leads = Arrays.copyOf(leads, (size + 1) * 2 * SYMBOLS);
+            }
+        }
+
+        private void close(int state) {
+            int low = state * 2;
+            int high = low + 1;
+            // a round adds all items of a name at least, or is the last one
+            boolean grown = true;
+            for (int round = 0; grown && round <= NAMES; round++) {
+                grown = false;
+                for (int name = 0; name < NAMES; name++) {
+                    int part = TOKENS + name;
+                    if ((sets[low] & grammar.ahead[part * 2]) != 0
+                            || (sets[high] & grammar.ahead[part * 2 + 1]) != 0) {
+                        long moreLow = sets[low] | grammar.fresh[name * 2];
+                        long moreHigh = sets[high] | grammar.fresh[name * 2 + 1];
+                        grown |= moreLow != sets[low] || moreHigh != sets[high];
+                        sets[low] = moreLow;
+                        sets[high] = moreHigh;
+                    }
+                }
+            }
+        }
+    }
+
+    /** The states of the kind '1': each is a set of items, and for each item the set of what may be behind its rule. */
+    private static final class Exact {
+        private final Grammar grammar;
+        private final Looks looks;
+        private final long[] kernels = new long[(STATES + 1) * 2];
+        private final long[] sets = new long[(STATES + 1) * 2];
+        /** Holds for the items that are in the state's set alone. */
+        private final int[] behinds = new int[(STATES + 1) * SLOTS];
+        private final int[] due = new int[NAMES];
+        final int[] leads = new int[STATES * SYMBOLS];
+        int size;
+        boolean tooMany;
+
+        Exact(Grammar grammar, Looks looks) {
+            this.grammar = grammar;
+            this.looks = looks;
+        }
+
+        void build() {
+            tooMany = false;
+            size = 1;
+            kernels[0] = 0;
+            kernels[1] = bitOf(TOP, 0);
+            behinds[TOP * DOTS] = END_BIT;
+            close(0);
+            for (int state = 0; state < size && state < STATES && !tooMany; state++) {
+                for (int part = 0; part < SYMBOLS && !tooMany; part++) {
+                    leads[state * SYMBOLS + part] = findNext(state, part);
+                }
+            }
+        }
+
+        boolean haveSameItems(int state, int other) {
+            return sets[state * 2] == sets[other * 2] && sets[state * 2 + 1] == sets[other * 2 + 1];
+        }
+
+        /** Adds what may be behind each item of a state to what is told of the items already. */
+        void addBehinds(int state, int[] merged) {
+            for (int half = 0; half < 2; half++) {
+                long rest = sets[state * 2 + half];
+                for (int left = Long.bitCount(rest); left > 0; left--) {
+                    int slot = half * SLOTS_A_HALF + lowestOf(rest);
+                    merged[slot] |= behinds[state * SLOTS + slot];
+                    rest &= rest - 1;
+                }
+            }
+        }
+
+        private int findNext(int state, int part) {
+            long low = (sets[state * 2] & grammar.ahead[part * 2]) << 1;
+            long high = (sets[state * 2 + 1] & grammar.ahead[part * 2 + 1]) << 1;
+            if ((low | high) == 0) {
+                return NONE;
+            }
+            int next = size;
+            kernels[next * 2] = low;
+            kernels[next * 2 + 1] = high;
+            copyBehinds(state, next);
+            for (int old = 0; old < next; old++) {
+                if (haveSameKernel(old, next)) {
+                    return old;
+                }
+            }
+            if (size >= STATES) {
+                tooMany = true;
+                return NONE;
+            }
+            close(next);
+            size++;
+            return next;
+        }
+
+        /** An item with the dot moved on has behind its rule what it had ahead of the symbol. */
+        private void copyBehinds(int from, int to) {
+            for (int half = 0; half < 2; half++) {
+                long rest = kernels[to * 2 + half];
+                for (int left = Long.bitCount(rest); left > 0; left--) {
+                    int slot = half * SLOTS_A_HALF + lowestOf(rest);
+                    behinds[to * SLOTS + slot] = behinds[from * SLOTS + slot - 1];
+                    rest &= rest - 1;
+                }
+            }
+        }
+
+        private boolean haveSameKernel(int old, int next) {
+            if (kernels[old * 2] != kernels[next * 2] || kernels[old * 2 + 1] != kernels[next * 2 + 1]) {
+                return false;
+            }
+            for (int half = 0; half < 2; half++) {
+                long rest = kernels[next * 2 + half];
+                for (int left = Long.bitCount(rest); left > 0; left--) {
+                    int slot = half * SLOTS_A_HALF + lowestOf(rest);
+                    if (behinds[old * SLOTS + slot] != behinds[next * SLOTS + slot]) {
+                        return false;
+                    }
+                    rest &= rest - 1;
+                }
+            }
+            return true;
+        }
+
+        /** All items that closing adds for a name have the same behind them, so this is found a name at a time. */
+        private void close(int state) {
+            Arrays.fill(due, 0);
+            for (int half = 0; half < 2; half++) {
+                long rest = kernels[state * 2 + half];
+                sets[state * 2 + half] = rest;
+                for (int left = Long.bitCount(rest); left > 0; left--) {
+                    int slot = half * SLOTS_A_HALF + lowestOf(rest);
+                    demand(slot / DOTS, slot % DOTS, behinds[state * SLOTS + slot]);
+                    rest &= rest - 1;
+                }
+            }
+            boolean grown = true;
+            for (int round = 0; grown && round <= NAMES * CELLS; round++) {
+                grown = false;
+                for (int rule = 0; rule < grammar.count; rule++) {
+                    grown |= demand(rule, 0, due[grammar.left[rule]]);
+                }
+            }
+            addDueItems(state);
+        }
+
+        /** Tells what is due behind the name at the dot of an item; nothing behind the item means that there is none. */
+        private boolean demand(int rule, int dot, int behind) {
+            int part = grammar.partAt(rule, dot);
+            if (part < TOKENS || behind == 0) {
+                return false;
+            }
+            int name = part - TOKENS;
+            int more = due[name] | looks.behindTail(looks.tails[rule * DOTS + dot + 1], behind);
+            boolean grown = more != due[name];
+            due[name] = more;
+            return grown;
+        }
+
+        private void addDueItems(int state) {
+            for (int rule = 0; rule < grammar.count; rule++) {
+                int behind = due[grammar.left[rule]];
+                if (behind != 0) {
+                    sets[state * 2 + halfOf(rule)] |= bitOf(rule, 0);
+                    behinds[state * SLOTS + rule * DOTS] = behind;
+                }
+            }
+        }
+    }
+
+    /** What is asked of one kind: where states lead, what their cells do and which are in doubt. */
+    private static final class Table {
+        private final Grammar grammar;
+        /** For each rule the set of cells of one state in which it may reduce. */
+        private final int[] reduces = new int[RULES + 1];
+        /** For each item of one state, the set of what may be behind it. */
+        private final int[] merged = new int[SLOTS];
+        private final int[] groupOf = new int[STATES];
+        private final int[] firstOf = new int[STATES];
+        int size;
+        int[] leads = new int[STATES * SYMBOLS];
+        int[] acts = new int[STATES * CELLS];
+        int[] counts = new int[STATES];
+        int[] doubtful = new int[STATES * CELLS];
+        int doubtCount;
+
+        Table(Grammar grammar) {
+            this.grammar = grammar;
+        }
+
+        /** Without what is behind the names, every rule reduces in every cell. */
+        void fillPlain(Plain plain, int[] behinds) {
+            open(plain.size);
+            leads = plain.leads;
+            for (int state = 0; state < size; state++) {
+                counts[state] = plain.countItems(state);
+                for (int rule = 0; rule < grammar.count; rule++) {
+                    boolean over = plain.holds(state, rule, grammar.width[rule]);
+                    int cells = behinds == null ? ALL_CELLS : behinds[grammar.left[rule]];
+                    reduces[rule] = over ? cells : 0;
+                }
+                reduces[TOP] = plain.holds(state, TOP, 1) ? END_BIT : 0;
+                settle(state);
+            }
+        }
+
+        /** In the kind '1' each state is a group by itself; in the kind 'l' those with the same items are one. */
+        void fillExact(Exact exact, boolean merging) {
+            open(findGroups(exact, merging));
+            for (int group = 0; group < size; group++) {
+                int first = firstOf[group];
+                Arrays.fill(merged, 0);
+                for (int state = first; state < exact.size; state++) {
+                    if (groupOf[state] == group) {
+                        exact.addBehinds(state, merged);
+                    }
+                }
+                for (int part = 0; part < SYMBOLS; part++) {
+                    int next = exact.leads[first * SYMBOLS + part];
+                    leads[group * SYMBOLS + part] = next == NONE ? NONE : groupOf[next];
+                }
+                tellItems(group);
+                settle(group);
+            }
+        }
+
+        private int findGroups(Exact exact, boolean merging) {
+            int groups = 0;
+            for (int state = 0; state < exact.size; state++) {
+                int group = merging ? 0 : groups;
+                while (group < groups && !exact.haveSameItems(firstOf[group], state)) {
+                    group++;
+                }
+                groupOf[state] = group;
+                if (group == groups) {
+                    firstOf[group] = state;
+                    groups++;
+                }
+            }
+            return groups;
+        }
+
+        private void open(int states) {
+            size = states;
+            doubtCount = 0;
+            if (states > counts.length) {
+                acts = new int[states * CELLS];
+                counts = new int[states];
+                doubtful = new int[states * CELLS];
+            }
+        }
+
+        private void tellItems(int state) {
+            int items = 0;
+            for (int rule = 0; rule <= RULES; rule++) {
+                reduces[rule] = 0;
+                if (rule < grammar.count || rule == TOP) {
+                    int last = rule * DOTS + grammar.width[rule];
+                    for (int slot = rule * DOTS; slot <= last; slot++) {
+                        items += Integer.bitCount(merged[slot]);
+                    }
+                    reduces[rule] = merged[last];
+                }
+            }
+            counts[state] = items;
+        }
+
+        private void settle(int state) {
+            for (int cell = 0; cell < CELLS; cell++) {
+                int ways = 0;
+                int act = NONE;
+                for (int rule = grammar.count - 1; rule >= 0; rule--) {
+                    if (has(reduces[rule], cell)) {
+                        act = rule;
+                        ways++;
+                    }
+                }
+                if (cell < TOKENS && leads[state * SYMBOLS + cell] != NONE) {
+                    act = SHIFTS;
+                    ways++;
+                }
+                if (has(reduces[TOP], cell)) {
+                    act = ACCEPTS;
+                    ways++;
+                }
+                acts[state * CELLS + cell] = act;
+                if (ways > 1) {
+                    doubtful[doubtCount] = 10 * state + cell;
+                    doubtCount++;
+                }
+            }
+        }
+    }
+
+    /** A parsing of the text by a table. */
+    private static final class Run {
+        private final Grammar grammar;
+        private final Text text;
+        private final int[] stack = new int[STEPS + 2];
+        private int depth;
+        final int[] used = new int[STEPS];
+        int usedCount;
+        int stepCount;
+
+        Run(Grammar grammar, Text text) {
+            this.grammar = grammar;
+            this.text = text;
+        }
+
+        char follow(Table table) {
+            stack[0] = 0;
+            depth = 1;
+            usedCount = 0;
+            stepCount = 0;
+            int place = 0;
+            for (int turn = 0; turn <= STEPS; turn++) {
+                int state = stack[depth - 1];
+                int cell = place < text.size ? text.tokens[place] : END;
+                int act = table.acts[state * CELLS + cell];
+                if (act == ACCEPTS || act == NONE) {
+                    return act == ACCEPTS ? 'y' : 'n';
+                }
+                if (turn == STEPS) {
+                    return 'l';
+                }
+                stepCount++;
+                if (act == SHIFTS) {
+                    push(table.leads[state * SYMBOLS + cell]);
+                    place++;
+                } else {
+                    reduce(table, act);
+                }
+            }
+            return 'l';
+        }
+
+        private void reduce(Table table, int rule) {
+            used[usedCount] = rule;
+            usedCount++;
+            depth = Math.max(1, depth - grammar.width[rule]);
+            push(table.leads[stack[depth - 1] * SYMBOLS + TOKENS + grammar.left[rule]]);
+        }
+
+        private void push(int state) {
+            stack[depth] = state;
+            depth++;
+        }
+    }
+
+    /** The trees over all spans of the text: all of them, or those alone that are not barred. */
+    private static final class Forest {
+        private final Grammar grammar;
+        private final Looks looks;
+        private final Text text;
+        private final boolean barring;
+        /** For each rule, place and span: in how many ways the symbols from the place on make the span. */
+        private final int[] ways = new int[RULES * DOTS * ROWS * ROWS];
+        /** For each rule and span: how many rules its least tree has. */
+        private final int[] weights = new int[RULES * ROWS * ROWS];
+        /** For each rule and place: the set of the rules that the tree there may have. */
+        private final int[] allowed = new int[RULES * DOTS];
+        private final int[] order = new int[NAMES];
+        private int orderSize;
+        private int version = NONE;
+        private int levelVersion;
+        private int textVersion;
+        int foundRule;
+        int foundBegin;
+        int foundEnd;
+
+        Forest(Grammar grammar, Looks looks, Text text, boolean barring) {
+            this.grammar = grammar;
+            this.looks = looks;
+            this.text = text;
+            this.barring = barring;
+        }
+
+        int countTrees() {
+            refresh();
+            return waysByRules(rulesOf(grammar.start), 0, text.size);
+        }
+
+        /** Finds a node of the least tree; nodes are numbered from above, then from the left to the right. */
+        boolean findNode(int index) {
+            refresh();
+            int rule = lowestRule(rulesOf(grammar.start), 0, text.size);
+            if (index < 0 || rule == NONE || index >= weights[spanOf(rule, 0, text.size)]) {
+                return false;
+            }
+            foundRule = rule;
+            foundBegin = 0;
+            foundEnd = text.size;
+            int left = index;
+            // a step goes to a shorter span, or to another name over the same one
+            for (int depth = 0; left > 0 && depth < ROWS * NAMES; depth++) {
+                left = goDown(left - 1);
+            }
+            return left == 0;
+        }
+
+        /** Goes to the tree below the found node that has the node of this number, and tells its number there. */
+        private int goDown(int index) {
+            int rule = foundRule;
+            int begin = foundBegin;
+            int left = index;
+            for (int place = 0; place < grammar.width[rule]; place++) {
+                int end = leastEnd(rule, place, begin, foundEnd);
+                if (end == NONE) {
+                    return NONE;
+                }
+                if (grammar.partAt(rule, place) >= TOKENS) {
+                    int below = lowestRule(allowed[rule * DOTS + place], begin, end);
+                    int weight = below == NONE ? 0 : weights[spanOf(below, begin, end)];
+                    if (left < weight) {
+                        foundRule = below;
+                        foundBegin = begin;
+                        foundEnd = end;
+                        return left;
+                    }
+                    left -= weight;
+                }
+                begin = end;
+            }
+            return NONE;
+        }
+
+        private void refresh() {
+            boolean sameLevels = !barring || levelVersion == grammar.levelVersion;
+            if (version == grammar.version && textVersion == text.version && sameLevels) {
+                return;
+            }
+            version = grammar.version;
+            textVersion = text.version;
+            levelVersion = grammar.levelVersion;
+            looks.refresh();
+            Arrays.fill(ways, 0);
+            orderNames();
+            allowRules();
+            for (int length = 0; length <= text.size; length++) {
+                for (int begin = 0; begin + length <= text.size; begin++) {
+                    fillSpan(begin, begin + length);
+                }
+            }
+        }
+
+        /** Over one span a tree has trees of those alone that its name goes round to; these come first. */
+        private void orderNames() {
+            int live = looks.reachedNames & looks.endingNames;
+            int done = 0;
+            orderSize = 0;
+            for (int round = 0; round < NAMES; round++) {
+                for (int name = 0; name < NAMES; name++) {
+                    if (has(live & ~done, name) && (looks.around[name] & live & ~done) == 0) {
+                        order[orderSize] = name;
+                        orderSize++;
+                        done |= 1 << name;
+                    }
+                }
+            }
+        }
+
+        private int rulesOf(int name) {
+            int set = 0;
+            for (int rule = 0; rule < grammar.count; rule++) {
+                if (grammar.left[rule] == name) {
+                    set |= 1 << rule;
+                }
+            }
+            return set;
+        }
+
+        private void allowRules() {
+            for (int rule = 0; rule < grammar.count; rule++) {
+                for (int place = 0; place < grammar.width[rule]; place++) {
+                    int part = grammar.partAt(rule, place);
+                    int below = part < TOKENS ? 0 : rulesOf(part - TOKENS);
+                    for (int other = 0; other < grammar.count; other++) {
+                        if (barring && has(below, other) && isBarred(rule, place, other)) {
+                            below &= ~(1 << other);
+                        }
+                    }
+                    allowed[rule * DOTS + place] = below;
+                }
+            }
+        }
+
+        private boolean isBarred(int rule, int place, int below) {
+            int level = grammar.levels[rule];
+            int lower = grammar.levels[below];
+            if (level == 0 || lower == 0 || lower > level) {
+                return false;
+            }
+            char side = grammar.sides[rule];
+            boolean atFirst = place == 0 && side != 'l';
+            boolean atLast = place == grammar.width[rule] - 1 && side != 'r';
+            return lower < level || atFirst || atLast;
+        }
+
+        private static int placeOf(int rule, int place, int begin, int end) {
+            return ((rule * DOTS + place) * ROWS + begin) * ROWS + end;
+        }
+
+        private static int spanOf(int rule, int begin, int end) {
+            return (rule * ROWS + begin) * ROWS + end;
+        }
+
+        /**
+         * Where all ahead of a place can be empty, what is from there on may be a whole tree over the span, that other
+         * names need; from the other places on, trees of any name over the span may be needed, so these are later.
+         */
+        private void fillSpan(int begin, int end) {
+            for (int i = 0; i < orderSize; i++) {
+                for (int rule = 0; rule < grammar.count; rule++) {
+                    if (grammar.left[rule] == order[i]) {
+                        fillPlaces(rule, looks.vanishingParts(rule), 0, begin, end);
+                        weigh(rule, begin, end);
+                    }
+                }
+            }
+            int live = looks.reachedNames & looks.endingNames;
+            for (int rule = 0; rule < grammar.count; rule++) {
+                if (has(live, grammar.left[rule])) {
+                    fillPlaces(rule, grammar.width[rule], looks.vanishingParts(rule) + 1, begin, end);
+                }
+            }
+        }
+
+        private void fillPlaces(int rule, int from, int to, int begin, int end) {
+            for (int place = from; place >= to; place--) {
+                int count;
+                int part = grammar.partAt(rule, place);
+                if (part == NONE) {
+                    count = begin == end ? 1 : 0;
+                } else if (part < TOKENS) {
+                    boolean fits = begin < end && text.tokens[begin] == part;
+                    count = fits ? ways[placeOf(rule, place + 1, begin + 1, end)] : 0;
+                } else {
+                    count = waysOfName(rule, place, begin, end);
+                }
+                ways[placeOf(rule, place, begin, end)] = count;
+            }
+        }
+
+        private int waysOfName(int rule, int place, int begin, int end) {
+            int set = allowed[rule * DOTS + place];
+            long sum = 0;
+            for (int middle = begin; middle <= end; middle++) {
+                int later = ways[placeOf(rule, place + 1, middle, end)];
+                if (later > 0) {
+                    sum = Math.min(TREES_TOLD, sum + (long) later * waysByRules(set, begin, middle));
+                }
+            }
+            return (int) sum;
+        }
+
+        private int waysByRules(int set, int begin, int end) {
+            int sum = 0;
+            for (int rule = 0; rule < grammar.count; rule++) {
+                if (has(set, rule)) {
+                    sum = Math.min(TREES_TOLD, sum + ways[placeOf(rule, 0, begin, end)]);
+                }
+            }
+            return sum;
+        }
+
+        private int lowestRule(int set, int begin, int end) {
+            for (int rule = 0; rule < grammar.count; rule++) {
+                if (has(set, rule) && ways[placeOf(rule, 0, begin, end)] > 0) {
+                    return rule;
+                }
+            }
+            return NONE;
+        }
+
+        /** Where the symbol at a place of a rule ends in the least tree, if it begins here and the rule ends there. */
+        private int leastEnd(int rule, int place, int begin, int end) {
+            if (grammar.partAt(rule, place) < TOKENS) {
+                return begin < end ? begin + 1 : NONE;
+            }
+            int set = allowed[rule * DOTS + place];
+            for (int middle = begin; middle <= end; middle++) {
+                if (ways[placeOf(rule, place + 1, middle, end)] > 0 && lowestRule(set, begin, middle) != NONE) {
+                    return middle;
+                }
+            }
+            return NONE;
+        }
+
+        private void weigh(int rule, int begin, int end) {
+            if (!barring || ways[placeOf(rule, 0, begin, end)] == 0) {
+                return;
+            }
+            int weight = 1;
+            int from = begin;
+            for (int place = 0; place < grammar.width[rule] && from != NONE; place++) {
+                int to = leastEnd(rule, place, from, end);
+                int below = to == NONE ? NONE : lowestRule(allowed[rule * DOTS + place], from, to);
+                weight += below == NONE ? 0 : weights[spanOf(below, from, to)];
+                from = to;
+            }
+            weights[spanOf(rule, begin, end)] = weight;
+        }
+    }
+
+    /** What it costs at least to make each span of the text a word of a name. */
+    private static final class Mender {
+        private final Grammar grammar;
+        private final Looks looks;
+        private final Text text;
+        /** For each rule, place and span: what it costs to make the span a row of the symbols from the place on. */
+        private final int[] costs = new int[RULES * DOTS * ROWS * ROWS];
+        private final int[] best = new int[NAMES * ROWS * ROWS];
+        private int version = NONE;
+        private int textVersion;
+
+        Mender(Grammar grammar, Looks looks, Text text) {
+            this.grammar = grammar;
+            this.looks = looks;
+            this.text = text;
+        }
+
+        int countCost() {
+            refresh();
+            return best[spanOf(grammar.start, 0, text.size)];
+        }
+
+        private void refresh() {
+            if (version == grammar.version && textVersion == text.version) {
+                return;
+            }
+            version = grammar.version;
+            textVersion = text.version;
+            looks.refresh();
+            for (int length = 0; length <= text.size; length++) {
+                for (int begin = 0; begin + length <= text.size; begin++) {
+                    fillSpan(begin, begin + length);
+                }
+            }
+        }
+
+        private static int placeOf(int rule, int place, int begin, int end) {
+            return ((rule * DOTS + place) * ROWS + begin) * ROWS + end;
+        }
+
+        private static int spanOf(int name, int begin, int end) {
+            return (name * ROWS + begin) * ROWS + end;
+        }
+
+        private boolean isUsed(int rule) {
+            return has(looks.reachedNames, grammar.left[rule]);
+        }
+
+        private void fillSpan(int begin, int end) {
+            for (int name = 0; name < NAMES; name++) {
+                best[spanOf(name, begin, end)] = begin == end ? looks.lengths[name] : TOO_MUCH;
+            }
+            for (int rule = 0; rule < grammar.count; rule++) {
+                if (isUsed(rule)) {
+                    splitSpan(rule, begin, end);
+                }
+            }
+            boolean sunk = true;
+            // over one span a cheapest tree has no name above itself, so a round after six sinks nothing
+            for (int round = 0; sunk && round <= NAMES; round++) {
+                sunk = false;
+                for (int rule = 0; rule < grammar.count; rule++) {
+                    if (isUsed(rule)) {
+                        sunk |= sink(rule, begin, end);
+                    }
+                }
+            }
+        }
+
+        /** The costs as far as they come from shorter spans. */
+        private void splitSpan(int rule, int begin, int end) {
+            int width = grammar.width[rule];
+            costs[placeOf(rule, width, begin, end)] = end - begin;
+            for (int place = width - 1; place >= 0; place--) {
+                int part = grammar.partAt(rule, place);
+                int cost = TOO_MUCH;
+                if (part < TOKENS) {
+                    if (begin < end) {
+                        int change = text.tokens[begin] == part ? 0 : 1;
+                        cost = Math.min(1 + costs[placeOf(rule, place, begin + 1, end)],
+                                change + costs[placeOf(rule, place + 1, begin + 1, end)]);
+                    }
+                } else {
+                    for (int middle = begin + 1; middle < end; middle++) {
+                        cost = Math.min(cost, best[spanOf(part - TOKENS, begin, middle)]
+                                + costs[placeOf(rule, place + 1, middle, end)]);
+                    }
+                }
+                costs[placeOf(rule, place, begin, end)] = Math.min(cost, TOO_MUCH);
+            }
+        }
+
+        /** Lets the costs that come from the same span sink. */
+        private boolean sink(int rule, int begin, int end) {
+            for (int place = grammar.width[rule] - 1; place >= 0; place--) {
+                int part = grammar.partAt(rule, place);
+                int own = placeOf(rule, place, begin, end);
+                int later = costs[placeOf(rule, place + 1, begin, end)];
+                int cost;
+                if (part < TOKENS) {
+                    cost = 1 + later;
+                } else {
+                    int name = part - TOKENS;
+                    cost = Math.min(best[spanOf(name, begin, begin)] + later,
+                            best[spanOf(name, begin, end)] + costs[placeOf(rule, place + 1, end, end)]);
+                }
+                costs[own] = Math.min(costs[own], cost);
+            }
+            int whole = spanOf(grammar.left[rule], begin, end);
+            int cost = costs[placeOf(rule, 0, begin, end)];
+            boolean sunk = cost < best[whole];
+            best[whole] = Math.min(cost, best[whole]);
+            return sunk;
+        }
+    }
+
+    /** All words up to a length of 5, as sets of bits: a word's bit is its number in the order of its length. */
+    private static final class Lexicon {
+        private static final int[] OFFSET = {0, 1, 2, 3, 5, 15};
+        private static final int[] LONGS = {1, 1, 1, 2, 10, 49};
+        private static final int[] POWER = {1, 5, 25, 125, 625, 3125};
+        private static final int SET = 64;
+
+        private final Grammar grammar;
+        private final Looks looks;
+        private final long[] wordsOf = new long[SYMBOLS * SET];
+        /** For each rule and place, what the symbols ahead of the place make. */
+        private final long[] headsOf = new long[RULES * DOTS * SET];
+        private final int[] upTo = new int[LONGEST_WORD + 1];
+        private int version = NONE;
+
+        Lexicon(Grammar grammar, Looks looks) {
+            this.grammar = grammar;
+            this.looks = looks;
+        }
+
+        int countUpTo(int length) {
+            refresh();
+            return upTo[length];
+        }
+
+        long sumOfLengths() {
+            refresh();
+            long sum = 0;
+            for (int length = 1; length <= LONGEST_WORD; length++) {
+                sum += (long) length * (upTo[length] - upTo[length - 1]);
+            }
+            return sum;
+        }
+
+        boolean holds(Text text) {
+            refresh();
+            int number = 0;
+            for (int place = 0; place < text.size && place < LONGEST_WORD; place++) {
+                number = number * TOKENS + text.tokens[place];
+            }
+            return (wordsOf[startSet(text.size) + (number >> 6)] >>> (number & 63) & 1) != 0;
+        }
+
+        /** The token at a place of the word with this index; NONE if there is no such word or place. */
+        int tokenOfWord(int index, int place) {
+            refresh();
+            if (index < 0 || index >= upTo[LONGEST_WORD]) {
+                return NONE;
+            }
+            int length = 0;
+            while (length < LONGEST_WORD && index >= upTo[length]) {
+                length++;
+            }
+            if (place < 0 || place >= length) {
+                return NONE;
+            }
+            int number = numberOfWord(length, index - upTo[length - 1]);
+            return number / POWER[length - 1 - place] % TOKENS;
+        }
+
+        private int numberOfWord(int length, int index) {
+            int left = index;
+            int from = startSet(length);
+            for (int i = 0; i < LONGS[length]; i++) {
+                long rest = wordsOf[from + i];
+                int here = Long.bitCount(rest);
+                if (left < here) {
+                    for (int skipped = 0; skipped < left; skipped++) {
+                        rest &= rest - 1;
+                    }
+                    return i * 64 + lowestOf(rest);
+                }
+                left -= here;
+            }
+            return 0;
+        }
+
+        private int startSet(int length) {
+            return (TOKENS + grammar.start) * SET + OFFSET[length];
+        }
+
+        private void refresh() {
+            if (version == grammar.version) {
+                return;
+            }
+            version = grammar.version;
+            looks.refresh();
+            Arrays.fill(wordsOf, 0);
+            Arrays.fill(headsOf, 0);
+            findEmptyHeads();
+            for (int length = 1; length <= LONGEST_WORD; length++) {
+                findWords(length);
+            }
+            int sum = 0;
+            for (int length = 0; length <= LONGEST_WORD; length++) {
+                for (int i = 0; i < LONGS[length]; i++) {
+                    sum += Long.bitCount(wordsOf[startSet(length) + i]);
+                }
+                upTo[length] = sum;
+            }
+        }
+
+        private boolean isUsed(int rule) {
+            return has(looks.reachedNames, grammar.left[rule]);
+        }
+
+        private static int headOf(int rule, int place) {
+            return (rule * DOTS + place) * SET;
+        }
+
+        private void findEmptyHeads() {
+            for (int token = 0; token < TOKENS; token++) {
+                wordsOf[token * SET + OFFSET[1]] = 1L << token;
+            }
+            for (int name = 0; name < NAMES; name++) {
+                wordsOf[(TOKENS + name) * SET] = has(looks.emptyNames, name) ? 1 : 0;
+            }
+            for (int rule = 0; rule < grammar.count; rule++) {
+                int ahead = looks.vanishingParts(rule);
+                for (int place = 0; place <= ahead; place++) {
+                    headsOf[headOf(rule, place)] = 1;
+                }
+            }
+        }
+
+        /**
+         * First the words of which no one name makes all; then each name gets those of the names that it goes round to
+         * or makes beside what is empty.
+         */
+        private void findWords(int length) {
+            for (int rule = 0; rule < grammar.count; rule++) {
+                if (isUsed(rule)) {
+                    joinHeads(rule, length);
+                    spreadHeads(rule, length);
+                    int head = headOf(rule, grammar.width[rule]) + OFFSET[length];
+                    int own = (TOKENS + grammar.left[rule]) * SET + OFFSET[length];
+                    unite(headsOf, head, wordsOf, own, LONGS[length]);
+                }
+            }
+            for (int name = 0; name < NAMES; name++) {
+                for (int other = 0; other < NAMES; other++) {
+                    if (has(looks.around[name], other)) {
+                        unite(wordsOf, (TOKENS + other) * SET + OFFSET[length],
+                                wordsOf, (TOKENS + name) * SET + OFFSET[length], LONGS[length]);
+                    }
+                }
+            }
+            for (int rule = 0; rule < grammar.count; rule++) {
+                if (isUsed(rule)) {
+                    spreadHeads(rule, length);
+                }
+            }
+        }
+
+        private static void unite(long[] from, int source, long[] to, int target, int longs) {
+            for (int i = 0; i < longs; i++) {
+                to[target + i] |= from[source + i];
+            }
+        }
+
+        /** The heads that are made of two shorter rows, none of them empty. */
+        private void joinHeads(int rule, int length) {
+            for (int place = 0; place < grammar.width[rule]; place++) {
+                int part = grammar.partAt(rule, place);
+                for (int ahead = 1; ahead < length; ahead++) {
+                    joinSets(headOf(rule, place), ahead, part * SET, length - ahead);
+                }
+            }
+        }
+
+        /** Puts each word of a length in a set ahead of all words of a length in another; the head behind gets them. */
+        private void joinSets(int head, int ahead, int words, int behind) {
+            int target = head + SET + OFFSET[ahead + behind];
+            for (int i = 0; i < LONGS[ahead]; i++) {
+                long rest = headsOf[head + OFFSET[ahead] + i];
+                for (int left = Long.bitCount(rest); left > 0; left--) {
+                    int number = i * 64 + lowestOf(rest);
+                    orShifted(words + OFFSET[behind], LONGS[behind], target, number * POWER[behind]);
+                    rest &= rest - 1;
+                }
+            }
+        }
+
+        private void orShifted(int source, int longs, int target, int shift) {
+            int bits = shift & 63;
+            int to = target + (shift >> 6);
+            for (int i = 0; i < longs; i++) {
+                long set = wordsOf[source + i];
+                headsOf[to + i] |= set << bits;
+                long over = bits == 0 ? 0 : set >>> 64 - bits;
+                if (over != 0) {
+                    headsOf[to + i + 1] |= over;
+                }
+            }
+        }
+
+        /** The heads that are made of one row of this length, all else in them being empty. */
+        private void spreadHeads(int rule, int length) {
+            for (int place = 0; place < grammar.width[rule]; place++) {
+                int part = grammar.partAt(rule, place);
+                int next = headOf(rule, place + 1) + OFFSET[length];
+                if (looks.canVanish(part)) {
+                    unite(headsOf, headOf(rule, place) + OFFSET[length], headsOf, next, LONGS[length]);
+                }
+                if (headsOf[headOf(rule, place)] != 0) {
+                    unite(wordsOf, part * SET + OFFSET[length], headsOf, next, LONGS[length]);
+                }
+            }
+        }
+    }
+}
