@@ -38,10 +38,13 @@ public final class GrammarwrightHall {
 
     private static final int STATES = 200;
 
-    /** The states of the kinds '0' and 's' are not limited by the document where names never end; this is far above. */
+    /**
+     * With names that never end there can be far more states of the kinds '0' and 's' than of the kind '1'. The document
+     * tells no bound for them; a search found grammars with some 8000, and none with as many as this.
+     */
     private static final int PLAIN_STATES = 20000;
 
-    /** More than any cost or length; four of it are still an int. */
+    /** More than any cost or length; some of it added up are still an int. */
     private static final int TOO_MUCH = 100000000;
 
     private final Grammar grammar;
@@ -49,8 +52,8 @@ public final class GrammarwrightHall {
     private final Looks looks;
     private final Rows rows;
     private final Rows otherRows;
-    private final Plain plain;
-    private final Exact exact;
+    private final PlainStates plain;
+    private final FullStates full;
     private final Table[] tables;
     private final Run run;
     private final Run otherRun;
@@ -66,8 +69,8 @@ public final class GrammarwrightHall {
         looks = new Looks(grammar);
         rows = new Rows(grammar, text);
         otherRows = new Rows(grammar, text);
-        plain = new Plain(grammar);
-        exact = new Exact(grammar, looks);
+        plain = new PlainStates(grammar);
+        full = new FullStates(grammar, looks);
         tables = new Table[4];
         for (int kind = 0; kind < 4; kind++) {
             tables[kind] = new Table(grammar);
@@ -328,11 +331,13 @@ public final class GrammarwrightHall {
 
     public int trees() throws UnsupportedOperationException {
         checkNoneGoesRound();
+        forest.refresh();
         return forest.countTrees();
     }
 
     public int treesLeft() throws UnsupportedOperationException {
         checkNoneGoesRound();
+        pruned.refresh();
         return pruned.countTrees();
     }
 
@@ -353,6 +358,7 @@ public final class GrammarwrightHall {
         if (!has(looks.endingNames, grammar.start)) {
             throw new NoSuchElementException("the language has no word");
         }
+        mender.refresh();
         return mender.countCost();
     }
 
@@ -360,10 +366,12 @@ public final class GrammarwrightHall {
         if (length < 0 || length > LONGEST_WORD) {
             throw new IllegalArgumentException("the length is out of range");
         }
+        refreshLexicon();
         return lexicon.countUpTo(length);
     }
 
     public char wordAt(int index, int place) throws IndexOutOfBoundsException {
+        refreshLexicon();
         int token = lexicon.tokenOfWord(index, place);
         if (token == NONE) {
             throw new IndexOutOfBoundsException("there is no such word or place");
@@ -372,10 +380,12 @@ public final class GrammarwrightHall {
     }
 
     public long allTokens() {
+        refreshLexicon();
         return lexicon.sumOfLengths();
     }
 
     public float wordShare() {
+        refreshLexicon();
         return (float) lexicon.countUpTo(LONGEST_WORD) / (float) 3906;
     }
 
@@ -384,17 +394,24 @@ public final class GrammarwrightHall {
     public boolean isSound() {
         otherRows.keepNone();
         boolean word = otherRows.acceptText();
-        looks.refresh();
+        refreshLexicon();
         return isRepairSound(word) && areTreesSound(word) && areWordsSound(word) && areTablesSound(word);
     }
 
     private boolean isRepairSound(boolean word) {
-        boolean free = has(looks.endingNames, grammar.start) && mender.countCost() == 0;
-        return free == word;
+        if (!has(looks.endingNames, grammar.start)) {
+            return !word;
+        }
+        mender.refresh();
+        return (mender.countCost() == 0) == word;
     }
 
     private boolean areTreesSound(boolean word) {
-        return looks.liveOneGoesRound() || (forest.countTrees() > 0) == word;
+        if (looks.liveOneGoesRound()) {
+            return true;
+        }
+        forest.refresh();
+        return (forest.countTrees() > 0) == word;
     }
 
     private boolean areWordsSound(boolean word) {
@@ -403,7 +420,7 @@ public final class GrammarwrightHall {
 
     private boolean areTablesSound(boolean word) {
         refreshTables();
-        if (exact.tooMany || plain.tooMany) {
+        if (full.tooMany || plain.tooMany) {
             return true;
         }
         for (int kind = 0; kind < 4; kind++) {
@@ -485,6 +502,7 @@ public final class GrammarwrightHall {
 
     private void checkNode(int index) {
         checkNoneGoesRound();
+        pruned.refresh();
         if (!pruned.findNode(index)) {
             throw new NoSuchElementException("there is no such tree or index");
         }
@@ -492,10 +510,15 @@ public final class GrammarwrightHall {
 
     private Table checkedTable(int kind) {
         refreshTables();
-        if (exact.tooMany || plain.tooMany) {
+        if (full.tooMany || plain.tooMany) {
             throw new UnsupportedOperationException("there would be too many states");
         }
         return tables[kind];
+    }
+
+    private void refreshLexicon() {
+        looks.refresh();
+        lexicon.refresh();
     }
 
     private void refreshTables() {
@@ -504,8 +527,8 @@ public final class GrammarwrightHall {
         }
         tablesVersion = grammar.version;
         looks.refresh();
-        exact.build();
-        if (exact.tooMany) {
+        full.build();
+        if (full.tooMany) {
             return;
         }
         plain.build();
@@ -514,8 +537,8 @@ public final class GrammarwrightHall {
         }
         tables[0].fillPlain(plain, null);
         tables[1].fillPlain(plain, looks.behinds);
-        tables[2].fillExact(exact, true);
-        tables[3].fillExact(exact, false);
+        tables[2].fillFull(full, true);
+        tables[3].fillFull(full, false);
     }
 
     private static int halfOf(int rule) {
@@ -524,6 +547,16 @@ public final class GrammarwrightHall {
 
     private static long bitOf(int rule, int dot) {
         return 1L << ((rule < RULES_A_HALF ? rule : rule - RULES_A_HALF) * DOTS + dot);
+    }
+
+    /** Where, among tables over spans, that of a rule's symbols from a place on has its cell for a span. */
+    private static int tailOf(int rule, int place, int begin, int end) {
+        return ((rule * DOTS + place) * ROWS + begin) * ROWS + end;
+    }
+
+    /** Where, among tables over spans, that of a rule or a name has its cell for a span. */
+    private static int spanOf(int number, int begin, int end) {
+        return (number * ROWS + begin) * ROWS + end;
     }
 
     /** The number of the lowest bit of a set that has one. */
@@ -593,6 +626,11 @@ public final class GrammarwrightHall {
             start = name;
             version++;
             return before;
+        }
+
+        /** The items of a set, in one of the halves, that have the dot ahead of a symbol, with the dot moved on. */
+        long moveDots(long set, int part, int half) {
+            return (set & ahead[part * 2 + half]) << 1;
         }
 
         /** The symbol at a place of a rule, the one more rule too; NONE behind its last one. */
@@ -671,11 +709,7 @@ public final class GrammarwrightHall {
         }
 
         boolean canVanish(int part) {
-            return part >= TOKENS && has(emptyNames, part - TOKENS);
-        }
-
-        boolean ends(int part) {
-            return part < TOKENS || has(endingNames, part - TOKENS);
+            return part >= TOKENS && (emptyNames >> part - TOKENS & 1) != 0;
         }
 
         boolean liveOneGoesRound() {
@@ -762,17 +796,13 @@ public final class GrammarwrightHall {
                 if (part >= TOKENS) {
                     int tail = tails[rule * DOTS + place + 1];
                     int name = part - TOKENS;
-                    int more = behinds[name] | behindTail(tail, behinds[grammar.left[rule]]);
+                    int after = (tail & END_BIT) == 0 ? 0 : behinds[grammar.left[rule]];
+                    int more = behinds[name] | tail & TOKEN_BITS | after;
                     grown |= more != behinds[name];
                     behinds[name] = more;
                 }
             }
             return grown;
-        }
-
-        /** What is first in a tail, then in what is behind it. */
-        int behindTail(int tail, int behind) {
-            return (tail & END_BIT) == 0 ? tail : tail & TOKEN_BITS | behind;
         }
 
         private void findReachedNames() {
@@ -927,7 +957,7 @@ public final class GrammarwrightHall {
         private boolean moveOn(int row, int from, int begun, int part) {
             boolean grown = false;
             for (int half = 0; half < 2; half++) {
-                long moved = (sets[placeOf(from, begun) + half] & grammar.ahead[part * 2 + half]) << 1;
+                long moved = grammar.moveDots(sets[placeOf(from, begun) + half], part, half);
                 int place = placeOf(row, begun) + half;
                 if ((moved & ~sets[place]) != 0) {
                     sets[place] |= moved;
@@ -982,14 +1012,14 @@ public final class GrammarwrightHall {
     }
 
     /** The states of the kinds '0' and 's': each is a set of items in two longs. */
-    private static final class Plain {
+    private static final class PlainStates {
         private final Grammar grammar;
         private long[] sets = new long[(STATES + 1) * 2];
         int[] leads = new int[(STATES + 1) * SYMBOLS];
         int size;
         boolean tooMany;
 
-        Plain(Grammar grammar) {
+        PlainStates(Grammar grammar) {
             this.grammar = grammar;
         }
 
@@ -999,7 +1029,7 @@ public final class GrammarwrightHall {
             sets[0] = 0;
             sets[1] = bitOf(TOP, 0);
             close(0);
-            for (int state = 0; state < size && state < PLAIN_STATES; state++) {
+            for (int state = 0; state < size && state < PLAIN_STATES && !tooMany; state++) {
                 for (int part = 0; part < SYMBOLS && !tooMany; part++) {
                     leads[state * SYMBOLS + part] = findNext(state, part);
                 }
@@ -1015,8 +1045,8 @@ public final class GrammarwrightHall {
         }
 
         private int findNext(int state, int part) {
-            long low = (sets[state * 2] & grammar.ahead[part * 2]) << 1;
-            long high = (sets[state * 2 + 1] & grammar.ahead[part * 2 + 1]) << 1;
+            long low = grammar.moveDots(sets[state * 2], part, 0);
+            long high = grammar.moveDots(sets[state * 2 + 1], part, 1);
             if ((low | high) == 0) {
                 return NONE;
             }
@@ -1069,7 +1099,7 @@ public final class GrammarwrightHall {
     }
 
     /** The states of the kind '1': each is a set of items, and for each item the set of what may be behind its rule. */
-    private static final class Exact {
+    private static final class FullStates {
         private final Grammar grammar;
         private final Looks looks;
         private final long[] kernels = new long[(STATES + 1) * 2];
@@ -1081,7 +1111,7 @@ public final class GrammarwrightHall {
         int size;
         boolean tooMany;
 
-        Exact(Grammar grammar, Looks looks) {
+        FullStates(Grammar grammar, Looks looks) {
             this.grammar = grammar;
             this.looks = looks;
         }
@@ -1117,8 +1147,8 @@ public final class GrammarwrightHall {
         }
 
         private int findNext(int state, int part) {
-            long low = (sets[state * 2] & grammar.ahead[part * 2]) << 1;
-            long high = (sets[state * 2 + 1] & grammar.ahead[part * 2 + 1]) << 1;
+            long low = grammar.moveDots(sets[state * 2], part, 0);
+            long high = grammar.moveDots(sets[state * 2 + 1], part, 1);
             if ((low | high) == 0) {
                 return NONE;
             }
@@ -1177,7 +1207,7 @@ public final class GrammarwrightHall {
                 sets[state * 2 + half] = rest;
                 for (int left = Long.bitCount(rest); left > 0; left--) {
                     int slot = half * SLOTS_A_HALF + lowestOf(rest);
-                    demand(slot / DOTS, slot % DOTS, behinds[state * SLOTS + slot]);
+                    demand(grammar.partAt(slot / DOTS, slot % DOTS), slot, behinds[state * SLOTS + slot]);
                     rest &= rest - 1;
                 }
             }
@@ -1185,20 +1215,20 @@ public final class GrammarwrightHall {
             for (int round = 0; grown && round <= NAMES * CELLS; round++) {
                 grown = false;
                 for (int rule = 0; rule < grammar.count; rule++) {
-                    grown |= demand(rule, 0, due[grammar.left[rule]]);
+                    grown |= demand(grammar.partAt(rule, 0), rule * DOTS, due[grammar.left[rule]]);
                 }
             }
             addDueItems(state);
         }
 
         /** Tells what is due behind the name at the dot of an item; nothing behind the item means that there is none. */
-        private boolean demand(int rule, int dot, int behind) {
-            int part = grammar.partAt(rule, dot);
+        private boolean demand(int part, int slot, int behind) {
             if (part < TOKENS || behind == 0) {
                 return false;
             }
             int name = part - TOKENS;
-            int more = due[name] | looks.behindTail(looks.tails[rule * DOTS + dot + 1], behind);
+            int tail = looks.tails[slot + 1];
+            int more = due[name] | tail & TOKEN_BITS | ((tail & END_BIT) == 0 ? 0 : behind);
             boolean grown = more != due[name];
             due[name] = more;
             return grown;
@@ -1236,7 +1266,7 @@ public final class GrammarwrightHall {
         }
 
         /** Without what is behind the names, every rule reduces in every cell. */
-        void fillPlain(Plain plain, int[] behinds) {
+        void fillPlain(PlainStates plain, int[] behinds) {
             open(plain.size);
             leads = plain.leads;
             for (int state = 0; state < size; state++) {
@@ -1252,18 +1282,18 @@ public final class GrammarwrightHall {
         }
 
         /** In the kind '1' each state is a group by itself; in the kind 'l' those with the same items are one. */
-        void fillExact(Exact exact, boolean merging) {
-            open(findGroups(exact, merging));
+        void fillFull(FullStates full, boolean merging) {
+            open(findGroups(full, merging));
             for (int group = 0; group < size; group++) {
                 int first = firstOf[group];
                 Arrays.fill(merged, 0);
-                for (int state = first; state < exact.size; state++) {
+                for (int state = first; state < full.size; state++) {
                     if (groupOf[state] == group) {
-                        exact.addBehinds(state, merged);
+                        full.addBehinds(state, merged);
                     }
                 }
                 for (int part = 0; part < SYMBOLS; part++) {
-                    int next = exact.leads[first * SYMBOLS + part];
+                    int next = full.leads[first * SYMBOLS + part];
                     leads[group * SYMBOLS + part] = next == NONE ? NONE : groupOf[next];
                 }
                 tellItems(group);
@@ -1271,11 +1301,11 @@ public final class GrammarwrightHall {
             }
         }
 
-        private int findGroups(Exact exact, boolean merging) {
+        private int findGroups(FullStates full, boolean merging) {
             int groups = 0;
-            for (int state = 0; state < exact.size; state++) {
+            for (int state = 0; state < full.size; state++) {
                 int group = merging ? 0 : groups;
-                while (group < groups && !exact.haveSameItems(firstOf[group], state)) {
+                while (group < groups && !full.haveSameItems(firstOf[group], state)) {
                     group++;
                 }
                 groupOf[state] = group;
@@ -1291,9 +1321,10 @@ public final class GrammarwrightHall {
             size = states;
             doubtCount = 0;
             if (states > counts.length) {
-                acts = new int[states * CELLS];
-                counts = new int[states];
-                doubtful = new int[states * CELLS];
+                // twice as many, so that tables that grow slowly are seldom made anew
+                acts = new int[2 * states * CELLS];
+                counts = new int[2 * states];
+                doubtful = new int[2 * states * CELLS];
             }
         }
 
@@ -1362,6 +1393,9 @@ public final class GrammarwrightHall {
             int place = 0;
             for (int turn = 0; turn <= STEPS; turn++) {
                 int state = stack[depth - 1];
+                if (state < 0 || state >= table.size) {
+                    return 'n';
+                }
                 int cell = place < text.size ? text.tokens[place] : END;
                 int act = table.acts[state * CELLS + cell];
                 if (act == ACCEPTS || act == NONE) {
@@ -1382,15 +1416,19 @@ public final class GrammarwrightHall {
         }
 
         private void reduce(Table table, int rule) {
-            used[usedCount] = rule;
-            usedCount++;
+            if (usedCount < used.length) {
+                used[usedCount] = rule;
+                usedCount++;
+            }
             depth = Math.max(1, depth - grammar.width[rule]);
             push(table.leads[stack[depth - 1] * SYMBOLS + TOKENS + grammar.left[rule]]);
         }
 
         private void push(int state) {
-            stack[depth] = state;
-            depth++;
+            if (depth < stack.length) {
+                stack[depth] = state;
+                depth++;
+            }
         }
     }
 
@@ -1423,13 +1461,11 @@ public final class GrammarwrightHall {
         }
 
         int countTrees() {
-            refresh();
             return waysByRules(rulesOf(grammar.start), 0, text.size);
         }
 
         /** Finds a node of the least tree; nodes are numbered from above, then from the left to the right. */
         boolean findNode(int index) {
-            refresh();
             int rule = lowestRule(rulesOf(grammar.start), 0, text.size);
             if (index < 0 || rule == NONE || index >= weights[spanOf(rule, 0, text.size)]) {
                 return false;
@@ -1471,7 +1507,7 @@ public final class GrammarwrightHall {
             return NONE;
         }
 
-        private void refresh() {
+        void refresh() {
             boolean sameLevels = !barring || levelVersion == grammar.levelVersion;
             if (version == grammar.version && textVersion == text.version && sameLevels) {
                 return;
@@ -1479,7 +1515,6 @@ public final class GrammarwrightHall {
             version = grammar.version;
             textVersion = text.version;
             levelVersion = grammar.levelVersion;
-            looks.refresh();
             Arrays.fill(ways, 0);
             orderNames();
             allowRules();
@@ -1543,14 +1578,6 @@ public final class GrammarwrightHall {
             return lower < level || atFirst || atLast;
         }
 
-        private static int placeOf(int rule, int place, int begin, int end) {
-            return ((rule * DOTS + place) * ROWS + begin) * ROWS + end;
-        }
-
-        private static int spanOf(int rule, int begin, int end) {
-            return (rule * ROWS + begin) * ROWS + end;
-        }
-
         /**
          * Where all ahead of a place can be empty, what is from there on may be a whole tree over the span, that other
          * names need; from the other places on, trees of any name over the span may be needed, so these are later.
@@ -1580,11 +1607,11 @@ public final class GrammarwrightHall {
                     count = begin == end ? 1 : 0;
                 } else if (part < TOKENS) {
                     boolean fits = begin < end && text.tokens[begin] == part;
-                    count = fits ? ways[placeOf(rule, place + 1, begin + 1, end)] : 0;
+                    count = fits ? ways[tailOf(rule, place + 1, begin + 1, end)] : 0;
                 } else {
                     count = waysOfName(rule, place, begin, end);
                 }
-                ways[placeOf(rule, place, begin, end)] = count;
+                ways[tailOf(rule, place, begin, end)] = count;
             }
         }
 
@@ -1592,7 +1619,7 @@ public final class GrammarwrightHall {
             int set = allowed[rule * DOTS + place];
             long sum = 0;
             for (int middle = begin; middle <= end; middle++) {
-                int later = ways[placeOf(rule, place + 1, middle, end)];
+                int later = ways[tailOf(rule, place + 1, middle, end)];
                 if (later > 0) {
                     sum = Math.min(TREES_TOLD, sum + (long) later * waysByRules(set, begin, middle));
                 }
@@ -1603,8 +1630,8 @@ public final class GrammarwrightHall {
         private int waysByRules(int set, int begin, int end) {
             int sum = 0;
             for (int rule = 0; rule < grammar.count; rule++) {
-                if (has(set, rule)) {
-                    sum = Math.min(TREES_TOLD, sum + ways[placeOf(rule, 0, begin, end)]);
+                if ((set >> rule & 1) != 0) {
+                    sum = Math.min(TREES_TOLD, sum + ways[(rule * DOTS * ROWS + begin) * ROWS + end]);
                 }
             }
             return sum;
@@ -1612,7 +1639,7 @@ public final class GrammarwrightHall {
 
         private int lowestRule(int set, int begin, int end) {
             for (int rule = 0; rule < grammar.count; rule++) {
-                if (has(set, rule) && ways[placeOf(rule, 0, begin, end)] > 0) {
+                if (has(set, rule) && ways[tailOf(rule, 0, begin, end)] > 0) {
                     return rule;
                 }
             }
@@ -1626,7 +1653,7 @@ public final class GrammarwrightHall {
             }
             int set = allowed[rule * DOTS + place];
             for (int middle = begin; middle <= end; middle++) {
-                if (ways[placeOf(rule, place + 1, middle, end)] > 0 && lowestRule(set, begin, middle) != NONE) {
+                if (ways[tailOf(rule, place + 1, middle, end)] > 0 && lowestRule(set, begin, middle) != NONE) {
                     return middle;
                 }
             }
@@ -1634,7 +1661,7 @@ public final class GrammarwrightHall {
         }
 
         private void weigh(int rule, int begin, int end) {
-            if (!barring || ways[placeOf(rule, 0, begin, end)] == 0) {
+            if (!barring || ways[tailOf(rule, 0, begin, end)] == 0) {
                 return;
             }
             int weight = 1;
@@ -1667,30 +1694,20 @@ public final class GrammarwrightHall {
         }
 
         int countCost() {
-            refresh();
             return best[spanOf(grammar.start, 0, text.size)];
         }
 
-        private void refresh() {
+        void refresh() {
             if (version == grammar.version && textVersion == text.version) {
                 return;
             }
             version = grammar.version;
             textVersion = text.version;
-            looks.refresh();
             for (int length = 0; length <= text.size; length++) {
                 for (int begin = 0; begin + length <= text.size; begin++) {
                     fillSpan(begin, begin + length);
                 }
             }
-        }
-
-        private static int placeOf(int rule, int place, int begin, int end) {
-            return ((rule * DOTS + place) * ROWS + begin) * ROWS + end;
-        }
-
-        private static int spanOf(int name, int begin, int end) {
-            return (name * ROWS + begin) * ROWS + end;
         }
 
         private boolean isUsed(int rule) {
@@ -1721,23 +1738,23 @@ public final class GrammarwrightHall {
         /** The costs as far as they come from shorter spans. */
         private void splitSpan(int rule, int begin, int end) {
             int width = grammar.width[rule];
-            costs[placeOf(rule, width, begin, end)] = end - begin;
+            costs[tailOf(rule, width, begin, end)] = end - begin;
             for (int place = width - 1; place >= 0; place--) {
                 int part = grammar.partAt(rule, place);
                 int cost = TOO_MUCH;
                 if (part < TOKENS) {
                     if (begin < end) {
                         int change = text.tokens[begin] == part ? 0 : 1;
-                        cost = Math.min(1 + costs[placeOf(rule, place, begin + 1, end)],
-                                change + costs[placeOf(rule, place + 1, begin + 1, end)]);
+                        cost = Math.min(1 + costs[tailOf(rule, place, begin + 1, end)],
+                                change + costs[tailOf(rule, place + 1, begin + 1, end)]);
                     }
                 } else {
                     for (int middle = begin + 1; middle < end; middle++) {
                         cost = Math.min(cost, best[spanOf(part - TOKENS, begin, middle)]
-                                + costs[placeOf(rule, place + 1, middle, end)]);
+                                + costs[tailOf(rule, place + 1, middle, end)]);
                     }
                 }
-                costs[placeOf(rule, place, begin, end)] = Math.min(cost, TOO_MUCH);
+                costs[tailOf(rule, place, begin, end)] = Math.min(cost, TOO_MUCH);
             }
         }
 
@@ -1745,20 +1762,20 @@ public final class GrammarwrightHall {
         private boolean sink(int rule, int begin, int end) {
             for (int place = grammar.width[rule] - 1; place >= 0; place--) {
                 int part = grammar.partAt(rule, place);
-                int own = placeOf(rule, place, begin, end);
-                int later = costs[placeOf(rule, place + 1, begin, end)];
+                int own = tailOf(rule, place, begin, end);
+                int later = costs[tailOf(rule, place + 1, begin, end)];
                 int cost;
                 if (part < TOKENS) {
                     cost = 1 + later;
                 } else {
                     int name = part - TOKENS;
                     cost = Math.min(best[spanOf(name, begin, begin)] + later,
-                            best[spanOf(name, begin, end)] + costs[placeOf(rule, place + 1, end, end)]);
+                            best[spanOf(name, begin, end)] + costs[tailOf(rule, place + 1, end, end)]);
                 }
                 costs[own] = Math.min(costs[own], cost);
             }
             int whole = spanOf(grammar.left[rule], begin, end);
-            int cost = costs[placeOf(rule, 0, begin, end)];
+            int cost = costs[tailOf(rule, 0, begin, end)];
             boolean sunk = cost < best[whole];
             best[whole] = Math.min(cost, best[whole]);
             return sunk;
@@ -1786,12 +1803,10 @@ public final class GrammarwrightHall {
         }
 
         int countUpTo(int length) {
-            refresh();
             return upTo[length];
         }
 
         long sumOfLengths() {
-            refresh();
             long sum = 0;
             for (int length = 1; length <= LONGEST_WORD; length++) {
                 sum += (long) length * (upTo[length] - upTo[length - 1]);
@@ -1800,7 +1815,6 @@ public final class GrammarwrightHall {
         }
 
         boolean holds(Text text) {
-            refresh();
             int number = 0;
             for (int place = 0; place < text.size && place < LONGEST_WORD; place++) {
                 number = number * TOKENS + text.tokens[place];
@@ -1810,7 +1824,6 @@ public final class GrammarwrightHall {
 
         /** The token at a place of the word with this index; NONE if there is no such word or place. */
         int tokenOfWord(int index, int place) {
-            refresh();
             if (index < 0 || index >= upTo[LONGEST_WORD]) {
                 return NONE;
             }
@@ -1846,12 +1859,11 @@ public final class GrammarwrightHall {
             return (TOKENS + grammar.start) * SET + OFFSET[length];
         }
 
-        private void refresh() {
+        void refresh() {
             if (version == grammar.version) {
                 return;
             }
             version = grammar.version;
-            looks.refresh();
             Arrays.fill(wordsOf, 0);
             Arrays.fill(headsOf, 0);
             findEmptyHeads();
