@@ -36,7 +36,7 @@ public final class OracleRuns {
             oneRun(seed + run);
         }
         for (String must : new String[] {"treeRule", "doubtAt", "leadsTo", "repair", "wordAt", "reducedBy"}) {
-            if (runs >= 100 && seen.getOrDefault(must, 0) < 50) {
+            if (runs >= 300 && seen.getOrDefault(must, 0) < 50) {
                 wrong++;
                 System.out.println(must + " was answered too seldom");
             }
@@ -201,7 +201,11 @@ public final class OracleRuns {
                     roll(20) == 0 ? 'G' : part(names, tokens, shape), 0);
         } else if (k < 41) {
             String[] asked = {"canBeEmpty", "first", "behind", "isReached", "shortest", "isLeftRecursive", "goesRound"};
-            both(x, o, log, seed, asked[roll(7)], name(names), 0, 0);
+            String look = asked[roll(7)];
+            for (char name = 'A'; name < 'G'; name++) {
+                both(x, o, log, seed, look, name, 0, 0);
+            }
+            both(x, o, log, seed, look, name(names), 0, 0);
         } else if (k < 44) {
             String[] asked = {"rules", "length", "symbolAt", "meanLength", "steps", "kept", "reckoned"};
             both(x, o, log, seed, asked[roll(7)], roll(o.left.size() + 2) - 1, roll(7) - 1, 0);

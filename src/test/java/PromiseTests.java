@@ -194,6 +194,25 @@ public final class PromiseTests {
         is(x.canBeEmpty('D'), false);
         is(x.canBeEmpty('E'), false);
         is(new GrammarwrightHall().canBeEmpty('A'), false);
+        // each name is known by the one behind it alone
+        GrammarwrightHall down = of("AB", "BC", "CD", "DE", "EF", "F", "Fa");
+        GrammarwrightHall up = of("Fa", "F", "EF", "DE", "CD", "BC", "AB");
+        for (char name : "ABCDEF".toCharArray()) {
+            for (GrammarwrightHall chain : new GrammarwrightHall[] {down, up}) {
+                promise = 9;
+                is(chain.canBeEmpty(name), true);
+                promise = 10;
+                is(chain.first(name), 1);
+                promise = 11;
+                is(chain.behind(name), 32);
+                promise = 12;
+                is(chain.isReached(name), true);
+                promise = 13;
+                is(chain.shortest(name), 0);
+                promise = 14;
+                is(chain.isLeftRecursive(name), false);
+            }
+        }
 
         promise = 10;
         is(x.first('A'), 2 + 8);
@@ -215,6 +234,7 @@ public final class PromiseTests {
         is(x.behind('F'), 48);
         is(x.behind('A'), 0);
         is(of("AaBC", "Cc", "C").behind('B'), 4 + 32);
+        is(of("EFB", "DEB", "CDB", "ACB", "B").behind('F'), 32);
 
         promise = 12;
         x.start('A');
@@ -235,6 +255,7 @@ public final class PromiseTests {
         fails(ELEMENT, () -> x.shortest('E'));
         GrammarwrightHall deep = of("ABBBBB", "BCCCCC", "CDDDDD", "DEEEEE", "EFFFFF", "Faaaaa");
         is(deep.shortest('A'), 15625);
+        promise = 37;
         is(write(deep, "aaaaaaaaaaaa").repair(), 15625 - 12);
 
         promise = 14;
@@ -242,6 +263,8 @@ public final class PromiseTests {
         is(of(EMPTY).isLeftRecursive('A'), true);
         is(of(EMPTY).isLeftRecursive('B'), false);
         is(of("AbA", "Aa").isLeftRecursive('A'), false);
+        is(of("ABa", "BCb", "CAc").isLeftRecursive('A'), true);
+        is(of("ABa", "BCb", "CAc").isLeftRecursive('B'), true);
         is(of("ABa", "BCb", "CAc").isLeftRecursive('C'), true);
         is(of("ABa", "BCb", "CBc").isLeftRecursive('A'), false);
         is(of("ACAb", "Cc").isLeftRecursive('A'), false);
@@ -250,7 +273,9 @@ public final class PromiseTests {
         is(of(EMPTY).goesRound('A'), false);
         is(of("AA").goesRound('A'), true);
         is(of("ABAB", "B").goesRound('A'), true);
+        is(of("ABC", "BA", "C").goesRound('A'), true);
         is(of("ABC", "BA", "C").goesRound('B'), true);
+        is(of("ABC", "BA", "C").goesRound('C'), false);
         is(of("ABC", "BA", "Cc").goesRound('B'), false);
         is(of("AAA", "A").goesRound('A'), true);
         is(of("AB", "BB").goesRound('A'), false);
@@ -650,6 +675,8 @@ public final class PromiseTests {
         fails(SUPPORT, () -> with("a", "Aa", "ABC", "BB", "B").trees());
         fails(SUPPORT, () -> with("", "AA", "Aa").trees());
         is(with("ba", EMPTY).trees(), 1);
+        is(with("a", "AB", "BC", "CD", "DE", "EF", "Fa").trees(), 1);
+        is(with("a", "AF", "Ba", "CB", "DC", "ED", "FE").trees(), 1);
 
         promise = 34;
         is(x.treesLeft(), 2);
@@ -755,6 +782,8 @@ public final class PromiseTests {
         is(with("edcba", "A").repair(), 5);
         is(with("abcde", "Aacbde").repair(), 2);
         is(with("c", "AA", "AB", "BA", "Bd").repair(), 1);
+        is(with("a", "CaA", "AB", "BC", "CD", "DE", "EF", "Fb", "Fa").repair(), 0);
+        is(with("aa", "CaA", "AB", "BC", "CD", "DE", "EF", "Fb").repair(), 1);
         fails(ELEMENT, () -> new GrammarwrightHall().repair());
         fails(ELEMENT, () -> with("a", "AaA", "Ba").repair());
 
