@@ -38,11 +38,19 @@ public final class GrammarwrightHall {
 
     private static final int STATES = 200;
 
-    /**
-     * With names that never end there can be far more states of the kinds '0' and 's' than of the kind '1'. The document
-     * tells no bound for them; a search found grammars with some 8000, and none with as many as this.
-     */
-    private static final int PLAIN_STATES = 20000;
+    /** Of the kinds, '0' and 's' come first; they have the same states. */
+    private static final int KINDS = 4;
+    private static final int PLAIN_KINDS = 2;
+    private static final int KIND_0 = 0;
+    private static final int KIND_L = 2;
+
+    /** In each half of a set of items, those with the dot at first. */
+    private static final long FIRST_DOTS = 0x1041041041041L;
+
+    // With names that never end there can be far more states of the kinds '0' and 's' than of the kind '1'. The document
+    // tells no bound for them; searches found grammars with some 100000, and none with as many as the last of these.
+    private static final int FEW_PLAIN_STATES = 256;
+    private static final int MOST_PLAIN_STATES = 1048576;
 
     /** More than any cost or length; some of it added up are still an int. */
     private static final int TOO_MUCH = 100000000;
@@ -61,7 +69,6 @@ public final class GrammarwrightHall {
     private final Forest pruned;
     private final Mender mender;
     private final Lexicon lexicon;
-    private int tablesVersion;
 
     public GrammarwrightHall() {
         grammar = new Grammar();
@@ -71,9 +78,9 @@ public final class GrammarwrightHall {
         otherRows = new Rows(grammar, text);
         plain = new PlainStates(grammar);
         full = new FullStates(grammar, looks);
-        tables = new Table[4];
-        for (int kind = 0; kind < 4; kind++) {
-            tables[kind] = new Table(grammar);
+        tables = new Table[KINDS];
+        for (int kind = 0; kind < KINDS; kind++) {
+            tables[kind] = new Table(kind, grammar, looks, plain, full);
         }
         run = new Run(grammar, text);
         otherRun = new Run(grammar, text);
@@ -81,7 +88,6 @@ public final class GrammarwrightHall {
         pruned = new Forest(grammar, looks, text, true);
         mender = new Mender(grammar, looks, text);
         lexicon = new Lexicon(grammar, looks);
-        tablesVersion = NONE;
     }
 
     // ---- the grammar ----
@@ -212,7 +218,7 @@ public final class GrammarwrightHall {
             throws IllegalArgumentException, UnsupportedOperationException, IndexOutOfBoundsException {
         Table table = checkedTable(checkedKind(kind));
         checkState(table, state);
-        return table.counts[state];
+        return table.countItems(state);
     }
 
     public int leadsTo(char kind, int state, char symbol) throws IllegalArgumentException,
@@ -224,7 +230,7 @@ public final class GrammarwrightHall {
         }
         Table table = checkedTable(row);
         checkState(table, state);
-        int next = table.leads[state * SYMBOLS + part];
+        int next = table.findNext(state, part);
         if (next == NONE) {
             throw new NoSuchElementException("the state leads nowhere by this symbol");
         }
@@ -240,20 +246,21 @@ public final class GrammarwrightHall {
         }
         Table table = checkedTable(row);
         checkState(table, state);
-        return table.acts[state * CELLS + cell];
+        return table.actAt(state, cell);
     }
 
     public int doubts(char kind) throws IllegalArgumentException, UnsupportedOperationException {
-        return checkedTable(checkedKind(kind)).doubtCount;
+        return checkedTable(checkedKind(kind)).countDoubts();
     }
 
     public int doubtAt(char kind, int index)
             throws IllegalArgumentException, UnsupportedOperationException, IndexOutOfBoundsException {
         Table table = checkedTable(checkedKind(kind));
-        if (index < 0 || index >= table.doubtCount) {
+        int cell = table.doubtfulCell(index);
+        if (cell == NONE) {
             throw new IndexOutOfBoundsException("there is no such cell");
         }
-        return table.doubtful[index];
+        return cell;
     }
 
     // ---- the text ----
@@ -419,13 +426,8 @@ public final class GrammarwrightHall {
     }
 
     private boolean areTablesSound(boolean word) {
-        refreshTables();
-        if (full.tooMany || plain.tooMany) {
-            return true;
-        }
-        for (int kind = 0; kind < 4; kind++) {
-            Table table = tables[kind];
-            if (table.doubtCount == 0 && (otherRun.follow(table) == 'y') != word) {
+        for (int kind = 0; kind < KINDS; kind++) {
+            if (makeTable(kind) && tables[kind].countDoubts() == 0 && (otherRun.follow(tables[kind]) == 'y') != word) {
                 return false;
             }
         }
@@ -509,8 +511,7 @@ public final class GrammarwrightHall {
     }
 
     private Table checkedTable(int kind) {
-        refreshTables();
-        if (full.tooMany || plain.tooMany) {
+        if (!makeTable(kind)) {
             throw new UnsupportedOperationException("there would be too many states");
         }
         return tables[kind];
@@ -521,24 +522,21 @@ public final class GrammarwrightHall {
         lexicon.refresh();
     }
 
-    private void refreshTables() {
-        if (tablesVersion == grammar.version) {
-            return;
-        }
-        tablesVersion = grammar.version;
+    /** Whether the table can be made: that hangs on the states of the kind '1', whatever kind it is. */
+    private boolean makeTable(int kind) {
         looks.refresh();
-        full.build();
+        full.refresh();
         if (full.tooMany) {
-            return;
+            return false;
         }
-        plain.build();
-        if (plain.tooMany) {
-            return;
+        if (kind < PLAIN_KINDS) {
+            plain.refresh();
+            if (plain.tooMany) {
+                return false;
+            }
         }
-        tables[0].fillPlain(plain, null);
-        tables[1].fillPlain(plain, looks.behinds);
-        tables[2].fillFull(full, true);
-        tables[3].fillFull(full, false);
+        tables[kind].refresh();
+        return true;
     }
 
     private static int halfOf(int rule) {
@@ -1011,11 +1009,19 @@ public final class GrammarwrightHall {
         }
     }
 
-    /** The states of the kinds '0' and 's': each is a set of items in two longs. */
+    /**
+     * The states of the kinds '0' and 's': each is a set of items in two longs. There can be very many, so where they lead
+     * is not kept, but found when it is asked: a state is known by its items whose dot is not at first.
+     */
     private static final class PlainStates {
         private final Grammar grammar;
-        private long[] sets = new long[(STATES + 1) * 2];
-        int[] leads = new int[(STATES + 1) * SYMBOLS];
+        /** For each name all items that closing adds for it. */
+        private final long[] added = new long[NAMES * 2];
+        private long[] sets = new long[FEW_PLAIN_STATES * 2];
+        /** For each state, one that was found ahead of it and has the same place among the heads. */
+        private int[] links = new int[FEW_PLAIN_STATES];
+        private int[] heads = new int[FEW_PLAIN_STATES / 4];
+        private int version = NONE;
         int size;
         boolean tooMany;
 
@@ -1023,75 +1029,116 @@ public final class GrammarwrightHall {
             this.grammar = grammar;
         }
 
-        void build() {
+        void refresh() {
+            if (version == grammar.version) {
+                return;
+            }
+            version = grammar.version;
+            findAdded();
+            Arrays.fill(heads, NONE);
             tooMany = false;
-            size = 1;
-            sets[0] = 0;
-            sets[1] = bitOf(TOP, 0);
-            close(0);
-            for (int state = 0; state < size && state < PLAIN_STATES && !tooMany; state++) {
+            size = 0;
+            add(0, bitOf(TOP, 0));
+            for (int state = 0; state < size && state < MOST_PLAIN_STATES && !tooMany; state++) {
                 for (int part = 0; part < SYMBOLS && !tooMany; part++) {
-                    leads[state * SYMBOLS + part] = findNext(state, part);
+                    long low = grammar.moveDots(sets[state * 2], part, 0);
+                    long high = grammar.moveDots(sets[state * 2 + 1], part, 1);
+                    if ((low | high) != 0 && find(low, high) == NONE) {
+                        add(low, high);
+                    }
                 }
             }
-        }
-
-        boolean holds(int state, int rule, int dot) {
-            return (sets[state * 2 + halfOf(rule)] & bitOf(rule, dot)) != 0;
         }
 
         int countItems(int state) {
             return Long.bitCount(sets[state * 2]) + Long.bitCount(sets[state * 2 + 1]);
         }
 
-        private int findNext(int state, int part) {
+        /** The items of a state, in one of the halves, that have the dot at the end. */
+        long endedItems(int state, int half) {
+            long ends = half == halfOf(TOP) ? bitOf(TOP, 1) : 0;
+            for (int name = 0; name < NAMES; name++) {
+                ends |= grammar.ended[name * 2 + half];
+            }
+            return sets[state * 2 + half] & ends;
+        }
+
+        boolean leadsBy(int state, int part) {
+            return (sets[state * 2] & grammar.ahead[part * 2]) != 0
+                    || (sets[state * 2 + 1] & grammar.ahead[part * 2 + 1]) != 0;
+        }
+
+        /** The state to which a state leads by a symbol; NONE if there is none. */
+        int findNext(int state, int part) {
             long low = grammar.moveDots(sets[state * 2], part, 0);
             long high = grammar.moveDots(sets[state * 2 + 1], part, 1);
-            if ((low | high) == 0) {
-                return NONE;
+            return (low | high) == 0 ? NONE : find(low, high);
+        }
+
+        /** The state with these items ahead of closing; none of them has the dot at first, so it is never the state 0. */
+        private int find(long low, long high) {
+            int state = heads[headOf(low, high)];
+            for (int i = 0; i < size && state != NONE; i++) {
+                if ((sets[state * 2] & ~FIRST_DOTS) == low && (sets[state * 2 + 1] & ~FIRST_DOTS) == high) {
+                    return state;
+                }
+                state = links[state];
             }
-            int next = size;
-            sets[next * 2] = low;
-            sets[next * 2 + 1] = high;
-            close(next);
-            for (int old = 0; old < next; old++) {
-                if (sets[old * 2] == sets[next * 2] && sets[old * 2 + 1] == sets[next * 2 + 1]) {
-                    return old;
+            return NONE;
+        }
+
+        private int headOf(long low, long high) {
+            long mixed = low * 0x9E3779B97F4A7C15L + high * 0xBF58476D1CE4E5B9L;
+            mixed = (mixed ^ mixed >>> 32) * 0x94D049BB133111EBL;
+            return (int) (mixed >>> 40) & heads.length - 1;
+        }
+
+        private void add(long low, long high) {
+            if (size >= links.length) {
+                if (size >= MOST_PLAIN_STATES) {
+                    tooMany = true;
+                    return;
+                }
+                makeRoom();
+            }
+            sets[size * 2] = low;
+            sets[size * 2 + 1] = high;
+            link(size, low, high);
+            for (int name = 0; name < NAMES; name++) {
+                if (leadsBy(size, TOKENS + name)) {
+                    sets[size * 2] |= added[name * 2];
+                    sets[size * 2 + 1] |= added[name * 2 + 1];
                 }
             }
-            if (size >= PLAIN_STATES) {
-                tooMany = true;
-                return NONE;
-            }
             size++;
-            makeRoom();
-            return next;
         }
 
-        /** One state more than there are has its place, for the one that is looked at. */
+        private void link(int state, long low, long high) {
+            int head = headOf(low, high);
+            links[state] = heads[head];
+            heads[head] = state;
+        }
+
         private void makeRoom() {
-            if ((size + 1) * 2 > sets.length) {
-                sets = Arrays.copyOf(sets, (size + 1) * 4);
-                leads = Arrays.copyOf(leads, (size + 1) * 2 * SYMBOLS);
+            int room = 4 * links.length;
+            sets = Arrays.copyOf(sets, room * 2);
+            links = Arrays.copyOf(links, room);
+            heads = new int[room / 4];
+            Arrays.fill(heads, NONE);
+            for (int state = 0; state < size; state++) {
+                link(state, sets[state * 2] & ~FIRST_DOTS, sets[state * 2 + 1] & ~FIRST_DOTS);
             }
         }
 
-        private void close(int state) {
-            int low = state * 2;
-            int high = low + 1;
-            // a round adds all items of a name at least, or is the last one
-            boolean grown = true;
-            for (int round = 0; grown && round <= NAMES; round++) {
-                grown = false;
+        private void findAdded() {
+            System.arraycopy(grammar.fresh, 0, added, 0, added.length);
+            for (int by = 0; by < NAMES; by++) {
+                long low = grammar.ahead[(TOKENS + by) * 2];
+                long high = grammar.ahead[(TOKENS + by) * 2 + 1];
                 for (int name = 0; name < NAMES; name++) {
-                    int part = TOKENS + name;
-                    if ((sets[low] & grammar.ahead[part * 2]) != 0
-                            || (sets[high] & grammar.ahead[part * 2 + 1]) != 0) {
-                        long moreLow = sets[low] | grammar.fresh[name * 2];
-                        long moreHigh = sets[high] | grammar.fresh[name * 2 + 1];
-                        grown |= moreLow != sets[low] || moreHigh != sets[high];
-                        sets[low] = moreLow;
-                        sets[high] = moreHigh;
+                    if ((added[name * 2] & low) != 0 || (added[name * 2 + 1] & high) != 0) {
+                        added[name * 2] |= added[by * 2];
+                        added[name * 2 + 1] |= added[by * 2 + 1];
                     }
                 }
             }
@@ -1107,6 +1154,7 @@ public final class GrammarwrightHall {
         /** Holds for the items that are in the state's set alone. */
         private final int[] behinds = new int[(STATES + 1) * SLOTS];
         private final int[] due = new int[NAMES];
+        private int version = NONE;
         final int[] leads = new int[STATES * SYMBOLS];
         int size;
         boolean tooMany;
@@ -1116,7 +1164,11 @@ public final class GrammarwrightHall {
             this.looks = looks;
         }
 
-        void build() {
+        void refresh() {
+            if (version == grammar.version) {
+                return;
+            }
+            version = grammar.version;
             tooMany = false;
             size = 1;
             kernels[0] = 0;
@@ -1247,64 +1299,53 @@ public final class GrammarwrightHall {
 
     /** What is asked of one kind: where states lead, what their cells do and which are in doubt. */
     private static final class Table {
+        /** The cells in doubt are counted up to each of so many states, so that one of them is found without all. */
+        private static final int BLOCK = 1024;
+
+        private final int kind;
         private final Grammar grammar;
-        /** For each rule the set of cells of one state in which it may reduce. */
-        private final int[] reduces = new int[RULES + 1];
-        /** For each item of one state, the set of what may be behind it. */
-        private final int[] merged = new int[SLOTS];
+        private final Looks looks;
+        private final PlainStates plain;
+        private final FullStates full;
+        /** For the kinds '1' and 'l': of which state each state of the kind '1' is one, and the first one of each. */
         private final int[] groupOf = new int[STATES];
         private final int[] firstOf = new int[STATES];
+        /** For each item of the state that is shown, the set of what may be behind it. */
+        private final int[] merged = new int[SLOTS];
+        /** For each rule the set of cells of the state that is shown in which it may reduce. */
+        private final int[] reduces = new int[RULES + 1];
+        private int shifts;
+        private int itemCount;
+        private int shown;
+        private final int[] doubtsAhead = new int[MOST_PLAIN_STATES / BLOCK + 1];
+        private boolean counted;
+        private int doubtCount;
+        private int version = NONE;
         int size;
-        int[] leads = new int[STATES * SYMBOLS];
-        int[] acts = new int[STATES * CELLS];
-        int[] counts = new int[STATES];
-        int[] doubtful = new int[STATES * CELLS];
-        int doubtCount;
 
-        Table(Grammar grammar) {
+        Table(int kind, Grammar grammar, Looks looks, PlainStates plain, FullStates full) {
+            this.kind = kind;
             this.grammar = grammar;
+            this.looks = looks;
+            this.plain = plain;
+            this.full = full;
         }
 
-        /** Without what is behind the names, every rule reduces in every cell. */
-        void fillPlain(PlainStates plain, int[] behinds) {
-            open(plain.size);
-            leads = plain.leads;
-            for (int state = 0; state < size; state++) {
-                counts[state] = plain.countItems(state);
-                for (int rule = 0; rule < grammar.count; rule++) {
-                    boolean over = plain.holds(state, rule, grammar.width[rule]);
-                    int cells = behinds == null ? ALL_CELLS : behinds[grammar.left[rule]];
-                    reduces[rule] = over ? cells : 0;
-                }
-                reduces[TOP] = plain.holds(state, TOP, 1) ? END_BIT : 0;
-                settle(state);
+        void refresh() {
+            if (version == grammar.version) {
+                return;
             }
+            version = grammar.version;
+            shown = NONE;
+            counted = false;
+            size = kind < PLAIN_KINDS ? plain.size : countGroups();
         }
 
         /** In the kind '1' each state is a group by itself; in the kind 'l' those with the same items are one. */
-        void fillFull(FullStates full, boolean merging) {
-            open(findGroups(full, merging));
-            for (int group = 0; group < size; group++) {
-                int first = firstOf[group];
-                Arrays.fill(merged, 0);
-                for (int state = first; state < full.size; state++) {
-                    if (groupOf[state] == group) {
-                        full.addBehinds(state, merged);
-                    }
-                }
-                for (int part = 0; part < SYMBOLS; part++) {
-                    int next = full.leads[first * SYMBOLS + part];
-                    leads[group * SYMBOLS + part] = next == NONE ? NONE : groupOf[next];
-                }
-                tellItems(group);
-                settle(group);
-            }
-        }
-
-        private int findGroups(FullStates full, boolean merging) {
+        private int countGroups() {
             int groups = 0;
             for (int state = 0; state < full.size; state++) {
-                int group = merging ? 0 : groups;
+                int group = kind == KIND_L ? 0 : groups;
                 while (group < groups && !full.haveSameItems(firstOf[group], state)) {
                     group++;
                 }
@@ -1317,54 +1358,139 @@ public final class GrammarwrightHall {
             return groups;
         }
 
-        private void open(int states) {
-            size = states;
-            doubtCount = 0;
-            if (states > counts.length) {
-                // twice as many, so that tables that grow slowly are seldom made anew
-                acts = new int[2 * states * CELLS];
-                counts = new int[2 * states];
-                doubtful = new int[2 * states * CELLS];
+        int findNext(int state, int part) {
+            if (kind < PLAIN_KINDS) {
+                return plain.findNext(state, part);
             }
+            int next = full.leads[firstOf[state] * SYMBOLS + part];
+            return next == NONE ? NONE : groupOf[next];
         }
 
-        private void tellItems(int state) {
-            int items = 0;
+        int countItems(int state) {
+            show(state);
+            return itemCount;
+        }
+
+        int actAt(int state, int cell) {
+            show(state);
+            if (has(reduces[TOP], cell)) {
+                return ACCEPTS;
+            }
+            if (has(shifts, cell)) {
+                return SHIFTS;
+            }
+            for (int rule = 0; rule < grammar.count; rule++) {
+                if (has(reduces[rule], cell)) {
+                    return rule;
+                }
+            }
+            return NONE;
+        }
+
+        int countDoubts() {
+            if (!counted) {
+                counted = true;
+                doubtCount = 0;
+                for (int state = 0; state < size; state++) {
+                    if (state % BLOCK == 0) {
+                        doubtsAhead[state / BLOCK] = doubtCount;
+                    }
+                    doubtCount += Integer.bitCount(cellsInDoubt(state));
+                }
+            }
+            return doubtCount;
+        }
+
+        /** Ten times the state and the number of the cell; NONE if there is no such one. */
+        int doubtfulCell(int index) {
+            if (index < 0 || index >= countDoubts()) {
+                return NONE;
+            }
+            int block = (size - 1) / BLOCK;
+            while (block > 0 && doubtsAhead[block] > index) {
+                block--;
+            }
+            int left = index - doubtsAhead[block];
+            for (int state = block * BLOCK; state < size; state++) {
+                int cells = cellsInDoubt(state);
+                for (int cell = 0; cell < CELLS; cell++) {
+                    if (has(cells, cell)) {
+                        if (left == 0) {
+                            return 10 * state + cell;
+                        }
+                        left--;
+                    }
+                }
+            }
+            return NONE;
+        }
+
+        private int cellsInDoubt(int state) {
+            show(state);
+            int once = shifts;
+            int twice = 0;
             for (int rule = 0; rule <= RULES; rule++) {
-                reduces[rule] = 0;
-                if (rule < grammar.count || rule == TOP) {
-                    int last = rule * DOTS + grammar.width[rule];
-                    for (int slot = rule * DOTS; slot <= last; slot++) {
-                        items += Integer.bitCount(merged[slot]);
-                    }
-                    reduces[rule] = merged[last];
-                }
+                twice |= once & reduces[rule];
+                once |= reduces[rule];
             }
-            counts[state] = items;
+            return twice;
         }
 
-        private void settle(int state) {
-            for (int cell = 0; cell < CELLS; cell++) {
-                int ways = 0;
-                int act = NONE;
-                for (int rule = grammar.count - 1; rule >= 0; rule--) {
-                    if (has(reduces[rule], cell)) {
-                        act = rule;
-                        ways++;
-                    }
+        /** What a state does is found for one state at a time, and kept until another is asked. */
+        private void show(int state) {
+            if (shown == state) {
+                return;
+            }
+            shown = state;
+            Arrays.fill(reduces, 0);
+            shifts = 0;
+            if (kind < PLAIN_KINDS) {
+                showPlain(state);
+                return;
+            }
+            Arrays.fill(merged, 0);
+            for (int part = firstOf[state]; part < full.size; part++) {
+                if (groupOf[part] == state) {
+                    full.addBehinds(part, merged);
                 }
-                if (cell < TOKENS && leads[state * SYMBOLS + cell] != NONE) {
-                    act = SHIFTS;
-                    ways++;
+            }
+            showMerged(state);
+        }
+
+        /** In the kind '0' every rule reduces in every cell, in the kind 's' by what is behind its name. */
+        private int cellsBehind(int name) {
+            return kind == KIND_0 ? ALL_CELLS : looks.behinds[name];
+        }
+
+        private void showPlain(int state) {
+            itemCount = plain.countItems(state);
+            for (int half = 0; half < 2; half++) {
+                long rest = plain.endedItems(state, half);
+                for (int left = Long.bitCount(rest); left > 0; left--) {
+                    int rule = (half * SLOTS_A_HALF + lowestOf(rest)) / DOTS;
+                    reduces[rule] = rule == TOP ? END_BIT : cellsBehind(grammar.left[rule]);
+                    rest &= rest - 1;
                 }
-                if (has(reduces[TOP], cell)) {
-                    act = ACCEPTS;
-                    ways++;
+            }
+            for (int token = 0; token < TOKENS; token++) {
+                if (plain.leadsBy(state, token)) {
+                    shifts |= 1 << token;
                 }
-                acts[state * CELLS + cell] = act;
-                if (ways > 1) {
-                    doubtful[doubtCount] = 10 * state + cell;
-                    doubtCount++;
+            }
+        }
+
+        private void showMerged(int state) {
+            itemCount = 0;
+            for (int slot = 0; slot < SLOTS; slot++) {
+                itemCount += Integer.bitCount(merged[slot]);
+            }
+            for (int rule = 0; rule < grammar.count; rule++) {
+                reduces[rule] = merged[rule * DOTS + grammar.width[rule]];
+            }
+            reduces[TOP] = merged[TOP * DOTS + 1];
+            for (int token = 0; token < TOKENS; token++) {
+                if (full.leads[firstOf[state] * SYMBOLS + token] != NONE) {
+                    shifts |= 1 << token;
                 }
             }
         }
@@ -1397,7 +1523,7 @@ public final class GrammarwrightHall {
                     return 'n';
                 }
                 int cell = place < text.size ? text.tokens[place] : END;
-                int act = table.acts[state * CELLS + cell];
+                int act = table.actAt(state, cell);
                 if (act == ACCEPTS || act == NONE) {
                     return act == ACCEPTS ? 'y' : 'n';
                 }
@@ -1406,7 +1532,7 @@ public final class GrammarwrightHall {
                 }
                 stepCount++;
                 if (act == SHIFTS) {
-                    push(table.leads[state * SYMBOLS + cell]);
+                    push(table.findNext(state, cell));
                     place++;
                 } else {
                     reduce(table, act);
@@ -1421,7 +1547,7 @@ public final class GrammarwrightHall {
                 usedCount++;
             }
             depth = Math.max(1, depth - grammar.width[rule]);
-            push(table.leads[stack[depth - 1] * SYMBOLS + TOKENS + grammar.left[rule]]);
+            push(table.findNext(stack[depth - 1], TOKENS + grammar.left[rule]));
         }
 
         private void push(int state) {

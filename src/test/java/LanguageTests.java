@@ -15,7 +15,7 @@ public final class LanguageTests {
             Pattern.compile("^(    |        )(?:(?:public|private|static|final|abstract) )*[\\w\\[\\]<>]+ (\\w+)\\(([^;]*)$");
     private static final Pattern LIBRARY = Pattern.compile("\\b(Math|Long|Integer|Arrays|System|List)\\.(\\w+)");
     private static final List<String> CALLS = List.of("Math.min", "Math.max", "Long.bitCount", "Integer.bitCount",
-            "Arrays.fill", "Arrays.copyOf");
+            "Arrays.fill", "Arrays.copyOf", "System.arraycopy");
 
     private static int wrong;
 
