@@ -56,6 +56,22 @@ public final class OracleRuns {
         {"AbbAB", "Bcb", "B", "B", "BAadc", "BecbAd", "BBAd", "BbBBb"},
         {"ABC", "BadddD", "DddddB", "FadBFE", "FFdDDB", "EdddaB", "EddDEd", "BdadDD", "EaddFB"},
         {"ABdB", "AcCa", "BbD", "CeE", "DaF", "EbF", "FcA", "Fd", "Fe", "DDb", "EaE", "F", "Bb", "Cc", "Dd", "EE"},
+        {"ABC", "BcB", "EcccD", "EaB", "FcccE", "EccccD", "BaD", "DccF", "FacE"},
+        {"ABC", "DabbDE", "DbbabD", "DbabFa", "EaDaFb", "EbbaEb", "DabbaF", "FbabbB", "Bb", "BabbbE", "BbbbbE",
+            "DbbbbD", "FbbabB", "EbbbFb", "Bb", "FbbbbB"},
+        // just as many states as there is room for at first, and a state more, and so on
+        {"ABC", "BabaaF", "FabaDE", "FBaabD", "FbaFaB", "DabaaF", "EbaaBE", "FababD", "Daaba", "EabEbD", "EaabBa",
+            "FBabaE", "DbaabF", "BaabaB", "BbaaED", "Bab"},
+        {"ABC", "BabaaD", "FabaDE", "Fbaa", "Fb", "Da", "EbaaBE", "FababD", "DaabaF", "EabEbD", "EaabBa", "FaabaE",
+            "DbaabF", "BaabaB", "Bba", "BababF"},
+        {"ABC", "BabaaD", "FabaDE", "FbaabD", "FbabaB", "DabaaF", "EbaaBE", "FababD", "DaabaF", "EabEbD", "EaabBa",
+            "FBabaE", "DbaabF", "BaabaB", "BbaaED", "Baba"},
+        {"ABC", "BabaaD", "FabaDE", "FbaabD", "FDabaB", "DabaaF", "EbaaBE", "FababD", "DaabaF", "EabE", "EaabBa",
+            "FaabaE", "Dba", "BaabaB", "BbaaED", "BababF"},
+        {"ABC", "BabaaD", "FabaDE", "FbaabD", "FbabaB", "DabaaF", "EbaaBE", "BababD", "DaabaF", "EabEFD", "EaabBa",
+            "FaabaE", "DbBabF", "BaabaB", "BbaaED", "BababF"},
+        {"ABC", "DabbDE", "DbbabD", "DbabFa", "EaDaFb", "EbbaEb", "DabbaF", "FbabbB", "BbabbE", "BabbbE", "BbbbbE",
+            "DbbbbD", "FbbabB", "EbbbFb", "BbbaBB", "FbbbbB"},
     };
 
     private static void wideRun(int which) {
@@ -72,13 +88,34 @@ public final class OracleRuns {
             both(x, o, log, -which, "states", kind, 0, 0);
             both(x, o, log, -which, "doubts", kind, 0, 0);
         }
+        sweepPlain(x, o, log, -which);
         for (int i = 0; i < 20; i++) {
             sweepTable(x, o, log, -which);
             both(x, o, log, -which, "leadsTo", kind(), roll(400), "abcdABCD".charAt(roll(8)));
             both(x, o, log, -which, "doubtAt", kind(), roll(400), 0);
+            both(x, o, log, -which, "isSound", 0, 0, 0);
             typeWord(x, o, log, -which);
             both(x, o, log, -which, "parse", kind(), 0, 0);
             both(x, o, log, -which, "repair", 0, 0, 0);
+        }
+    }
+
+    /** Asks all that there is of the kinds '0' and 's', or a part, where there are very many states. */
+    private static void sweepPlain(GrammarwrightHall x, Oracle o, List<String> log, long seed) {
+        int size = o.sizeOf('0');
+        int step = 1 + size / 2000;
+        for (int state = 0; state < size + step; state += step) {
+            int at = Math.min(state, size);
+            for (int kind : "0s".toCharArray()) {
+                both(x, o, log, seed, "items", kind, at, 0);
+                both(x, o, log, seed, "doubtAt", kind, at, 0);
+                for (char sign : "abcde$".toCharArray()) {
+                    both(x, o, log, seed, "does", kind, at, sign);
+                }
+                for (char sign : "abcdeABCDEF".toCharArray()) {
+                    both(x, o, log, seed, "leadsTo", kind, at, sign);
+                }
+            }
         }
     }
 
@@ -728,7 +765,10 @@ public final class OracleRuns {
 
         private Table make(boolean exact) {
             Table table = new Table();
+            Map<Set<String>, Integer> numbers = new HashMap<>();
+            Map<Set<String>, Integer> known = new HashMap<>();
             table.sets.add(close(Set.of(exact ? "99.0.$" : "99.0"), exact));
+            numbers.put(table.sets.get(0), 0);
             for (int s = 0; s < table.sets.size(); s++) {
                 Map<Character, Integer> leads = new HashMap<>();
                 table.leads.add(leads);
@@ -743,14 +783,19 @@ public final class OracleRuns {
                         }
                     }
                     if (!kernel.isEmpty()) {
-                        Set<String> closed = close(kernel, exact);
-                        int next = table.sets.indexOf(closed);
-                        if (next < 0) {
-                            next = table.sets.size();
-                            table.sets.add(closed);
-                            if (exact && next == 200) {
-                                throw new UnsupportedOperationException();
+                        Integer next = known.get(kernel);
+                        if (next == null) {
+                            Set<String> closed = close(kernel, exact);
+                            next = numbers.get(closed);
+                            if (next == null) {
+                                next = table.sets.size();
+                                table.sets.add(closed);
+                                numbers.put(closed, next);
+                                if (exact && next == 200) {
+                                    throw new UnsupportedOperationException();
+                                }
                             }
+                            known.put(kernel, next);
                         }
                         leads.put(symbol, next);
                     }
@@ -870,8 +915,20 @@ public final class OracleRuns {
             return acts;
         }
 
+        int sizeOf(char kind) {
+            return memo.containsKey("over") ? 0 : table(kind).sets.size();
+        }
+
+        @SuppressWarnings("unchecked")
         private List<Integer> doubtful(char kind) {
             Table table = table(kind);
+            if (!memo.containsKey("doubtful" + kind)) {
+                memo.put("doubtful" + kind, findDoubtful(kind, table));
+            }
+            return (List<Integer>) memo.get("doubtful" + kind);
+        }
+
+        private List<Integer> findDoubtful(char kind, Table table) {
             List<Integer> cells = new ArrayList<>();
             for (int s = 0; s < table.sets.size(); s++) {
                 for (int t = 0; t < 6; t++) {
