@@ -48,7 +48,7 @@ public final class GrammarwrightHall {
     private static final long FIRST_DOTS = 0x1041041041041L;
 
     // With names that never end there can be far more states of the kinds '0' and 's' than of the kind '1'. The document
-    // tells no bound for them; searches found grammars with some 100000, and none with as many as the last of these.
+    // tells no bound for them; long searches found grammars with some 44000, and none with more.
     private static final int FEW_PLAIN_STATES = 256;
     private static final int MOST_PLAIN_STATES = 1048576;
 

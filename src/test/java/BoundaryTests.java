@@ -43,6 +43,7 @@ public final class BoundaryTests {
         trees();
         repairs();
         words();
+        soundness();
         nothingChanges();
         allCalls();
         System.out.println(checks + " checks, " + wrong + " wrong");
@@ -493,6 +494,20 @@ public final class BoundaryTests {
         is(y.kept(), 3);
         fails(STATE, () -> with("aaaaaaaaaaaa").type('a'));
 
+        about = "the last row of a full text";
+        GrammarwrightHall full = with("bbbbbbbbbbbb", "AbA", "A");
+        for (int row = 0; row <= 12; row++) {
+            // the rules at first, moved on once and at the end, and the one more rule
+            is(full.itemsIn(row), row == 0 ? 4 : 2 + 1 + row + 1);
+            is(full.reckoned(), row + 1);
+        }
+        fails(INDEX, () -> full.itemsIn(13));
+        is(full.isWord(), true);
+        is(full.kept(), 13);
+        is(full.erase(), 12);
+        is(full.kept(), 1);
+        fails(INDEX, () -> full.itemsIn(1));
+
         about = "empty rows";
         GrammarwrightHall none = with("ddd", SUMS);
         is(none.isWord(), false);
@@ -676,6 +691,25 @@ public final class BoundaryTests {
         is(of("AaB", "Babcde").words(5), 0);
         // one word that is made in two ways is one word
         is(of("Aa", "Aa", "AB", "Ba").words(5), 1);
+    }
+
+    /** Texts of each length, words and others, in grammars with doubts and without. */
+    private static void soundness() {
+        about = "isSound";
+        String[][] grammars = {{"AaA", "A"}, {"AaA", "AbA", "A"}, {"AAa", "A"}, {"AaAb", "A"}, {"AaAa", "A", "Aa"}, {},
+            {"AA"}, {"AAA", "Aa"}, {"AA", "Aa", "AbB", "BB"}};
+        for (String[] grammar : grammars) {
+            for (char last : "ab".toCharArray()) {
+                GrammarwrightHall x = of(grammar);
+                for (int size = 0; size <= 12; size++) {
+                    is(x.isSound(), true);
+                    is(x.kept() + x.reckoned() + x.steps(), 0);
+                    if (size < 12) {
+                        x.put(0, size == 0 ? last : 'a');
+                    }
+                }
+            }
+        }
     }
 
     /** All that an object tells without being changed but for its rows, which are kept all behind it. */
