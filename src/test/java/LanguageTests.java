@@ -53,9 +53,24 @@ public final class LanguageTests {
         for (String name : others) {
             check(!open.contains(name), 0, "has a private method with the public name " + name);
         }
+        checkFace(lines);
         System.out.println(open.size() + " public and " + others.size() + " other methods, " + wrong + " wrong");
         if (wrong > 0) {
             System.exit(1);
+        }
+    }
+
+    /** Each line of the document's face stands in the program with the same types, names and exceptions. */
+    private static void checkFace(List<String> lines) throws IOException {
+        String program = String.join(" ", lines).replaceAll("\\s+", " ");
+        List<String> document = Files.readAllLines(Path.of("../shared/DOC.md"));
+        int begin = document.indexOf("public final class GrammarwrightHall {");
+        int end = document.subList(begin, document.size()).indexOf("}") + begin;
+        check(begin > 0 && program.contains(document.get(begin)), 0, "has not the class of the document");
+        check(end - begin == 44, 0, "is held against a face of " + (end - begin) + " lines");
+        for (String face : document.subList(begin + 1, end)) {
+            String due = face.strip().replace(";", " {");
+            check(program.contains(due), 0, "has not " + due);
         }
     }
 

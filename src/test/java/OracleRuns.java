@@ -1,5 +1,6 @@
 import java.math.BigInteger;
 import java.util.ArrayList;
+import java.util.Arrays;
 import java.util.Collections;
 import java.util.HashMap;
 import java.util.HashSet;
@@ -307,9 +308,9 @@ public final class OracleRuns {
         String got = answer(() -> real(x, call, a, b, c));
         log.add(call + "(" + show(a) + ", " + show(b) + ", " + show(c) + ") = " + got);
         if (!due.startsWith("throws")) {
-            seen.merge(due.equals("unknown") ? call + " unknown" : call, 1, Integer::sum);
+            seen.merge(call, 1, Integer::sum);
         }
-        if (!due.equals("unknown") && !due.equals(got)) {
+        if (!due.equals(got)) {
             wrong++;
             for (String line : log) {
                 System.out.println("  " + line);
@@ -1244,18 +1245,81 @@ public final class OracleRuns {
 
         private Object node(int index, boolean span) {
             List<Node> list = allTrees(true);
-            if (list == null) {
-                return "unknown";
-            }
-            List<Node> flat = new ArrayList<>();
-            if (!list.isEmpty()) {
-                flatten(list.get(0), flat);
+            List<Node> flat = leastTree();
+            if (list != null) {
+                List<Node> first = new ArrayList<>();
+                if (!list.isEmpty()) {
+                    flatten(list.get(0), first);
+                }
+                if (!places(first).equals(places(flat))) {
+                    throw new IllegalStateException("the first one of all trees is " + places(first));
+                }
             }
             if (index < 0 || index >= flat.size()) {
                 throw new NoSuchElementException();
             }
             Node node = flat.get(index);
             return span ? 100 * node.begin() + node.end() : node.rule();
+        }
+
+        private static String places(List<Node> flat) {
+            StringBuilder all = new StringBuilder();
+            for (Node node : flat) {
+                all.append(node.rule()).append(':').append(node.begin()).append('-').append(node.end()).append(' ');
+            }
+            return all.toString();
+        }
+
+        /** The least tree by going down from above, since there can be too many trees to make them all. */
+        @SuppressWarnings("unchecked")
+        private List<Node> leastTree() {
+            String key = "trees least" + text;
+            if (!memo.containsKey(key)) {
+                List<Node> flat = new ArrayList<>();
+                derive();
+                Map<String, BigInteger> counts = new HashMap<>();
+                int rule = lowest(counts, start, NO_RULE, 0, 0, text.length());
+                if (rule != NO_RULE) {
+                    goDown(counts, rule, 0, text.length(), flat);
+                }
+                memo.put(key, flat);
+            }
+            return (List<Node>) memo.get(key);
+        }
+
+        private static final int NO_RULE = -1;
+
+        /** The lowest rule of a name that may stand at a place of a rule above, and has a tree over the span. */
+        private int lowest(Map<String, BigInteger> counts, char name, int above, int place, int i, int j) {
+            for (int q = 0; q < left.size(); q++) {
+                if (left.get(q) == name && (above == NO_RULE || !bars(above, place, q))
+                        && count(counts, true, q, 0, i, j).signum() > 0) {
+                    return q;
+                }
+            }
+            return NO_RULE;
+        }
+
+        private void goDown(Map<String, BigInteger> counts, int r, int i, int j, List<Node> flat) {
+            flat.add(new Node(r, i, j, List.of(), List.of()));
+            String row = right.get(r);
+            int from = i;
+            for (int place = 0; place < row.length(); place++) {
+                if (isToken(row.charAt(place))) {
+                    from++;
+                    continue;
+                }
+                int to = from;
+                int below = NO_RULE;
+                while (below == NO_RULE) {
+                    if (count(counts, true, r, place + 1, to, j).signum() > 0) {
+                        below = lowest(counts, row.charAt(place), r, place, from, to);
+                    }
+                    to += below == NO_RULE ? 1 : 0;
+                }
+                goDown(counts, below, from, to, flat);
+                from = to;
+            }
         }
 
         private static void flatten(Node node, List<Node> flat) {
@@ -1334,8 +1398,64 @@ public final class OracleRuns {
             for (String word : language) {
                 least = Math.min(least, distance(word, text));
             }
+            int cost = costBySpans();
             // a longer word costs as many as it is longer at least
-            return least <= longest + 1 - text.length() ? least : "unknown";
+            if (cost > least || cost < least && cost <= longest - text.length()) {
+                throw new IllegalStateException("the words up to " + longest + " cost " + least);
+            }
+            return cost;
+        }
+
+        /** What it costs to make the text a word: that of each name over each span is lowered until nothing sinks. */
+        private int costBySpans() {
+            int size = text.length() + 1;
+            int[][][] costs = new int[6][size][size];
+            for (int[][] ofName : costs) {
+                for (int[] from : ofName) {
+                    Arrays.fill(from, MUCH);
+                }
+            }
+            for (boolean sunk = true; sunk;) {
+                sunk = false;
+                for (int r = 0; r < left.size(); r++) {
+                    for (int i = 0; i < size; i++) {
+                        int[] to = costsOfRow(costs, right.get(r), i);
+                        for (int j = i; j < size; j++) {
+                            sunk |= to[j] < costs[left.get(r) - 'A'][i][j];
+                            costs[left.get(r) - 'A'][i][j] = Math.min(to[j], costs[left.get(r) - 'A'][i][j]);
+                        }
+                    }
+                }
+            }
+            return costs[start - 'A'][0][size - 1];
+        }
+
+        private static final int MUCH = 1 << 28;
+
+        /** What it costs to make the spans from a place on a row of symbols, for each end. */
+        private int[] costsOfRow(int[][][] costs, String row, int from) {
+            int size = text.length() + 1;
+            int[] reach = new int[size];
+            Arrays.fill(reach, MUCH);
+            for (int j = from; j < size && (row.isEmpty() || j == from); j++) {
+                reach[j] = j - from;
+            }
+            for (char symbol : row.toCharArray()) {
+                int[] next = new int[size];
+                Arrays.fill(next, MUCH);
+                for (int i = from; i < size; i++) {
+                    for (int j = i; j < size; j++) {
+                        int one = isToken(symbol) ? costOfToken(symbol, i, j) : costs[symbol - 'A'][i][j];
+                        next[j] = Math.min(next[j], reach[i] + one);
+                    }
+                }
+                reach = next;
+            }
+            return reach;
+        }
+
+        private int costOfToken(char token, int i, int j) {
+            return i == j ? 1 : j - i - (text.substring(i, j).indexOf(token) < 0 ? 0 : 1);
         }
 
         private static int distance(String a, String b) {

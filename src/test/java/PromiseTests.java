@@ -46,6 +46,7 @@ public final class PromiseTests {
         trees();
         repairAndWords();
         soundness();
+        example();
         System.out.println(checks + " checks, " + wrong + " wrong");
         if (wrong > 0) {
             System.exit(1);
@@ -857,5 +858,26 @@ public final class PromiseTests {
         over.symbol(4, 'F');
         is(over.doubts('1'), 0);
         is(over.isSound(), false);
+    }
+
+    /** The example in README.md. */
+    private static void example() {
+        promise = 0;
+        GrammarwrightHall hall = new GrammarwrightHall();
+        int sum = hall.rule('A');
+        hall.symbol(sum, 'A');
+        hall.symbol(sum, 'a');
+        hall.symbol(sum, 'A');
+        hall.symbol(hall.rule('A'), 'c');
+        hall.level(sum, 1, 'l');
+        write(hall, "cacac");
+        is(hall.isWord(), true);
+        is(hall.trees(), 2);
+        is(hall.treesLeft(), 1);
+        is(hall.treeSpan(1), 3);
+        is(hall.doubts('s'), 1);
+        is(hall.parse('s'), 'y');
+        is(hall.cut(4), 'c');
+        is(hall.repair(), 1);
     }
 }
