@@ -320,6 +320,10 @@ public final class BoundaryTests {
     /** For the kinds '0' and 's' the document tells no bound. */
     private static void manyStates() {
         about = "very many states";
+        // asked ahead of anything else
+        is(of(MANY).doubtAt('0', 0), 2501);
+        fails(INDEX, () -> of(MANY).doubtAt('0', 1));
+        is(of(MANY).leadsTo('s', 0, 'A'), 3);
         GrammarwrightHall x = of(MANY);
         for (int round = 0; round < 3; round++) {
             is(x.states('1'), 4);

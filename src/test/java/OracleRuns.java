@@ -60,6 +60,9 @@ public final class OracleRuns {
         {"ABC", "BcB", "EcccD", "EaB", "FcccE", "EccccD", "BaD", "DccF", "FacE"},
         {"ABC", "DabbDE", "DbbabD", "DbabFa", "EaDaFb", "EbbaEb", "DabbaF", "FbabbB", "Bb", "BabbbE", "BbbbbE",
             "DbbbbD", "FbbabB", "EbbbFb", "Bb", "FbbbbB"},
+        // the start itself never ends, and stands behind the name that has so many states
+        {"AABA", "CabbbF", "FbbabB", "EbbbbF", "BabbbD", "DbbbBb", "BbbbbD", "CbbabF", "CbbbCE", "DbbbaC", "FabbbB",
+            "FbbbbE", "BbbbaF"},
         // just as many states as there is room for at first, and a state more, and so on
         {"ABC", "BabaaF", "FabaDE", "FBaabD", "FbaFaB", "DabaaF", "EbaaBE", "FababD", "Daaba", "EabEbD", "EaabBa",
             "FBabaE", "DbaabF", "BaabaB", "BbaaED", "Bab"},
