@@ -23,6 +23,10 @@ public final class BoundaryTests {
     private static final String[] MANY = {"ABC", "BabaaD", "FabaDE", "FbaabD", "FbabaB", "DabaaF", "EbaaBE", "BababD",
         "DaabaF", "EabEFD", "EaabBa", "FaabaE", "DbBabF", "BaabaB", "BbaaED", "BababF"};
 
+    /** 76560 states of the kind '0', more than of any other grammar that was found; 4 states of the kind '1'. */
+    private static final String[] MOST = {"AABA", "EbaabD", "FbaaEF", "FabaFC", "EabaBF", "BabaaD", "EaabFE", "DbaabE",
+        "EababE", "DaabaD", "CaabaE", "FaabCb", "BaabaC", "CabaaB", "DabaaF", "BbaabB"};
+
     private static String about = "";
     private static int checks;
     private static int wrong;
@@ -324,6 +328,13 @@ public final class BoundaryTests {
         is(of(MANY).doubtAt('0', 0), 2501);
         fails(INDEX, () -> of(MANY).doubtAt('0', 1));
         is(of(MANY).leadsTo('s', 0, 'A'), 3);
+        GrammarwrightHall most = of(MOST);
+        is(most.states('s'), 76560);
+        is(most.states('1'), 4);
+        is(most.items('0', 76559) > 0, true);
+        fails(INDEX, () -> most.items('0', 76560));
+        is(most.doubts('0'), 2);
+        is(most.isSound(), true);
         GrammarwrightHall x = of(MANY);
         for (int round = 0; round < 3; round++) {
             is(x.states('1'), 4);
